@@ -647,6 +647,12 @@ public final class RefinementMint {
             return term >= 0 && term < MOST_TERMS && isSafe[term];
         }
 
+        void setAllSafe() {
+            for (int i = 0; i < MOST_TERMS; i++) {
+                isSafe[i] = true;
+            }
+        }
+
         void setUnsafe(int term) {
             if (term >= 0 && term < MOST_TERMS) {
                 isSafe[term] = false;
@@ -1149,7 +1155,7 @@ public final class RefinementMint {
             for (int round = 0; round <= facts.size && !holdsFrom(facts.size); round++) {
                 int enough = low;
                 int few = facts.size;
-                while (few - enough > 1) {
+                for (int halving = 0; halving < Facts.ROOM && few - enough > 1; halving++) {
                     int middle = (enough + few) / 2;
                     if (holdsFrom(middle)) {
                         enough = middle;
@@ -1443,7 +1449,6 @@ public final class RefinementMint {
             return term >= 0 && term < MOST_TERMS ? waysOf[term] : 0;
         }
 
-        @Override
         int turn(int term, int part) {
             int kind = terms.kindAt(term);
             if (kind == Terms.LET && part == 1) {
@@ -1455,7 +1460,6 @@ public final class RefinementMint {
             return part;
         }
 
-        @Override
         void close(int term) {
             int kind = terms.kindAt(term);
             int sort = sortOf(term);
@@ -1768,7 +1772,6 @@ public final class RefinementMint {
             return isSecond[at];
         }
 
-        @Override
         int turn(int term, int part) {
             switch (terms.kindAt(term)) {
                 case Terms.LET:
@@ -1819,7 +1822,6 @@ public final class RefinementMint {
             return 1;
         }
 
-        @Override
         void close(int term) {
             int detail = terms.detailAt(term);
             switch (terms.kindAt(term)) {
@@ -1976,7 +1978,6 @@ public final class RefinementMint {
             namesFrom = NAMES * (calls - 1);
         }
 
-        @Override
         int turn(int term, int part) {
             switch (terms.kindAt(term)) {
                 case Terms.LET:
@@ -2059,7 +2060,6 @@ public final class RefinementMint {
             }
         }
 
-        @Override
         void close(int term) {
             int detail = terms.detailAt(term);
             switch (terms.kindAt(term)) {
@@ -2232,7 +2232,7 @@ public final class RefinementMint {
             }
             storedCount = 0;
             provedCount = 0;
-            Arrays.fill(terms.isSafe, true);
+            terms.setAllSafe();
             for (int i = 0; i < functions.length && functions[i] != null; i++) {
                 functions[i].firstCondition = storedCount;
                 functions[i].isSafe = true;
@@ -2276,13 +2276,16 @@ public final class RefinementMint {
         }
 
         private boolean concernsFound(Function function) {
-            boolean isConcerned = function.yields.isFound && function.yields.size > 0;
+            if (function.yields.isFound && function.yields.size > 0) {
+                return true;
+            }
             for (int i = 0; i < functions.length; i++) {
-                if ((function.calls >> i & 1) == 1 && functions[i] != null) {
-                    isConcerned |= functions[i].wants.isFound && functions[i].wants.size > 0;
+                if ((function.calls >> i & 1) == 1 && functions[i] != null
+                        && functions[i].wants.isFound && functions[i].wants.size > 0) {
+                    return true;
                 }
             }
-            return isConcerned;
+            return false;
         }
 
         private void sift(int function) {
@@ -2298,8 +2301,8 @@ public final class RefinementMint {
         private boolean sweep() {
             boolean isChanged = false;
             for (int i = 0; i < functions.length && functions[i] != null; i++) {
-                isChanged |= functions[i].wants.sweep();
-                isChanged |= functions[i].yields.sweep();
+                isChanged = functions[i].wants.sweep() || isChanged;
+                isChanged = functions[i].yields.sweep() || isChanged;
             }
             return isChanged;
         }
@@ -2365,12 +2368,13 @@ public final class RefinementMint {
                     if (prover.holds()) {
                         prover.findNeeded();
                         neededSum += prover.neededCount;
-                        isAllSound &= prover.holdsFromNeeded();
+                        isAllSound = isAllSound && prover.holdsFromNeeded();
                     } else if (prover.findExample(functions[i].parameters)) {
-                        isAllSound &= prover.isBroken(functions[i].parameters);
+                        isAllSound = isAllSound && prover.isBroken(functions[i].parameters);
                         char end = isRunnable(functions[i]) ? runner.execute(functions[i], prover.chosen, false) : '-';
-                        isAllSound &= end != walker.kind
-                                || runner.execute(functions[i], prover.chosen, true) == walker.kind;
+                        if (end == walker.kind && runner.execute(functions[i], prover.chosen, true) != end) {
+                            isAllSound = false;
+                        }
                     }
                 }
             }
