@@ -11,12 +11,12 @@ import java.util.function.BiConsumer;
 /**
  * Random languages, each asked of RefinementMint and of an oracle that does all of it in the plainest way: ways by
  * calls that go on with the rest, proofs by Bellman and Ford for each choice of sides, facts left out one by one,
- * examples tried number by number. Arguments: the first seed and how many (by default 1 and 250).
+ * examples tried number by number. Arguments: the first seed and how many (by default 1 and 600).
  */
 public final class OracleTest {
     public static void main(String[] args) {
         long from = args.length > 0 ? Long.parseLong(args[0]) : 1;
-        long count = args.length > 1 ? Long.parseLong(args[1]) : 250;
+        long count = args.length > 1 ? Long.parseLong(args[1]) : 600;
         int wrong = 0;
         for (long seed = from; seed < from + count && wrong < 5; seed++) {
             String fault = new Talk(seed).hold();
@@ -57,10 +57,13 @@ public final class OracleTest {
         String fault = null;
         /** Whether the numbers stand close together, and are often told to differ. */
         final boolean isDense;
+        /** Whether bodies are rows of numbers in narrow ranges that are told to differ. */
+        final boolean isRow;
 
         Talk(long seed) {
             random = new Random(seed * 7919 + 13);
             isDense = seed % 3 == 0;
+            isRow = seed % 5 == 0;
         }
 
         int any(int bound) {
@@ -91,6 +94,9 @@ public final class OracleTest {
         }
 
         String hold() {
+            if (isRow) {
+                return holdRow();
+            }
             int functions = 1 + any(4);
             for (int i = 0; i < functions; i++) {
                 int parameters = any(4);
@@ -131,6 +137,67 @@ public final class OracleTest {
                 both("needs(" + f + "," + i + ",-1," + most + ")", () -> mint.needs(f, parameter, -1, most),
                         () -> oracle.needs(f, parameter, -1, most));
             }
+        }
+
+        /** Function 0 gives a number of a narrow range; the bodies of function 1 tell some of these, and its two, apart. */
+        String holdRow() {
+            both("addFunction(0,0,false)", () -> mint.addFunction(0, 0, false), () -> oracle.addFunction(0, 0, false));
+            both("addFunction(2,0,false)", () -> mint.addFunction(2, 0, false), () -> oracle.addFunction(2, 0, false));
+            int most = 1 + any(2);
+            both("gives(0,-1,3,0)", () -> mint.gives(0, -1, 3, 0), () -> oracle.gives(0, -1, 3, 0));
+            both("gives(0,3,-1," + most + ")", () -> mint.gives(0, 3, -1, most), () -> oracle.gives(0, 3, -1, most));
+            tellRanges(1);
+            for (int round = 0; round < 2 && fault == null; round++) {
+                int lets = 1 + any(3);
+                int term = row(3 + any(7), 2 + lets);
+                for (int i = lets; i > 0; i--) {
+                    int name = i + 1;
+                    int body = term;
+                    int call = term("call(0,-1,-1,-1)", () -> mint.call(0, -1, -1, -1), () -> oracle.call(0, -1, -1, -1));
+                    term = term("let(" + name + "," + call + "," + body + ")", () -> mint.let(name, call, body),
+                            () -> oracle.let(name, call, body));
+                }
+                int root = term;
+                both("setBody(1," + root + ")", () -> mint.setBody(1, root), () -> oracle.setBody(1, root));
+                look();
+            }
+            return fault;
+        }
+
+        int row(int length, int names) {
+            int a = some(names);
+            int b = some(names);
+            int c = some(names);
+            int most = any(4) - 2;
+            int term = term("claim(" + a + "," + b + "," + most + "," + c + ")", () -> mint.claim(a, b, most, c),
+                    () -> oracle.claim(a, b, most, c));
+            for (int i = 0; i < length; i++) {
+                int on = term;
+                int off = term("number(1)", () -> mint.number(1), () -> oracle.number(1));
+                int x = some(names);
+                int y = some(names);
+                char sign = maybe(75) ? '=' : '<';
+                int yes = sign == '=' || maybe(50) ? off : on;
+                int no = yes == off ? on : off;
+                term = term("choice(" + sign + "," + x + "," + y + "," + yes + "," + no + ")",
+                        () -> mint.choice(sign, x, y, yes, no), () -> oracle.choice(sign, x, y, yes, no));
+            }
+            return term;
+        }
+
+        /** A name, a name plus or less 1, or a number. */
+        int some(int names) {
+            if (maybe(15)) {
+                int value = any(3);
+                return term("number(" + value + ")", () -> mint.number(value), () -> oracle.number(value));
+            }
+            int which = any(names);
+            int name = term("name(" + which + ")", () -> mint.name(which), () -> oracle.name(which));
+            if (maybe(75)) {
+                return name;
+            }
+            int more = maybe(50) ? 1 : -1;
+            return term("plus(" + name + "," + more + ")", () -> mint.plus(name, more), () -> oracle.plus(name, more));
         }
 
         int small() {

@@ -62,16 +62,22 @@ public final class PromiseTest {
         errors();
         now = "ways";
         ways();
+        now = "40 ways";
+        fortyWays();
         now = "conditions";
         conditions();
         now = "unlike";
         unlike();
+        now = "sides of unlike";
+        sidesOfUnlike();
         now = "lists";
         lists();
         now = "metric proofs";
         metricProofs();
         now = "examples";
         examples();
+        now = "far examples";
+        farExamples();
         now = "found";
         found();
         now = "rings";
@@ -80,8 +86,14 @@ public final class PromiseTest {
         runs();
         now = "limits of runs";
         limitsOfRuns();
+        now = "great numbers";
+        greatNumbers();
         now = "few checks";
         fewChecks();
+        now = "measures";
+        measures();
+        now = "many conditions";
+        manyConditions();
         now = "shares";
         shares();
         System.out.println(wrong == 0 ? "all promises hold" : wrong + " wrong answers");
@@ -361,6 +373,27 @@ public final class PromiseTest {
         due("a row", n.ways(0), 26);
     }
 
+    /** A row of choices with so many ways. */
+    private static int row(RefinementMint m, int ways) {
+        int term = m.number(0);
+        for (int i = 1; i < ways; i++) {
+            term = m.choice('<', m.name(0), m.number(i), m.number(i), term);
+        }
+        return term;
+    }
+
+    private static void fortyWays() {
+        RefinementMint m = new RefinementMint();
+        m.addFunction(1, 0, false);
+        int twenty = m.sum(row(m, 4), row(m, 5));
+        due("40", m.setBody(0, m.choice('=', m.name(0), m.number(1), twenty, m.sum(row(m, 5), row(m, 4)))), '-');
+        due("40", m.ways(0), 40);
+        RefinementMint n = new RefinementMint();
+        n.addFunction(1, 0, false);
+        twenty = n.sum(row(n, 4), row(n, 5));
+        due("41", n.setBody(0, n.choice('=', n.name(0), n.number(1), twenty, n.sum(row(n, 3), row(n, 7)))), 's');
+    }
+
     /** The sum of the numbers up to n, which needs n not below 0, and gives no less than n. */
     private static RefinementMint sums() {
         RefinementMint m = new RefinementMint();
@@ -503,6 +536,43 @@ public final class PromiseTest {
         due("facts", k.facts(0, 0), 9);
         due("all are needed", k.needed(0, 0), 9);
         due("sound", k.isSound(), true);
+    }
+
+    /** A way on which no number is less than 0 and the first two are at most 1, the third one at most 2. */
+    private static int inRanges(RefinementMint m, int term) {
+        int all = term;
+        for (int i = 0; i < 3; i++) {
+            all = m.choice('<', m.name(i), m.number(0), m.number(7), all);
+            all = m.choice('<', m.number(i < 2 ? 1 : 2), m.name(i), m.number(7), all);
+        }
+        return all;
+    }
+
+    /** Three numbers that all differ: the third one is 2 then, and that only where one of the others is 1. */
+    private static void sidesOfUnlike() {
+        for (int one = 0; one < 2; one++) {
+            for (int isOut = 0; isOut < 2; isOut++) {
+                RefinementMint m = new RefinementMint();
+                m.addFunction(3, 0, false);
+                m.needs(0, 2, one, 1);
+                int term = m.claim(m.number(1), m.number(0), 0, m.number(0));
+                if (isOut == 1) {
+                    term = m.choice('<', m.name(one), m.name(1 - one), term, m.number(0));
+                }
+                term = m.choice('=', m.name(0), m.name(1), m.number(0), term);
+                term = m.choice('=', m.name(2), m.name(1), m.number(0), term);
+                term = m.choice('=', m.name(0), m.name(2), m.number(0), term);
+                m.setBody(0, inRanges(m, term));
+                due("the third is 2", m.isProved(0, 0), isOut == 1);
+                if (isOut == 0) {
+                    due("first", m.example(0, 0, 0), one == 0 ? 1 : 0);
+                    due("second", m.example(0, 0, 1), one == 0 ? 0 : 1);
+                    due("third", m.example(0, 0, 2), 2);
+                    due("real", m.isReal(0, 0), true);
+                }
+                due("sound", m.isSound(), true);
+            }
+        }
     }
 
     private static void lists() {
@@ -662,6 +732,75 @@ public final class PromiseTest {
         due("isReal leaves the last run", j.result(), 0);
         due("isReal leaves the last run", j.checks(), 1);
         due("isReal leaves the last run", j.steps(), 4);
+    }
+
+    private static int great(RefinementMint m, int number) {
+        int left = number;
+        int term = m.number(0);
+        while (left != 0) {
+            int more = Math.max(-99, Math.min(99, left));
+            term = m.plus(term, more);
+            left -= more;
+        }
+        return term;
+    }
+
+    private static void farExamples() {
+        for (int list = 0; list < 2; list++) {
+            RefinementMint m = new RefinementMint();
+            m.addFunction(1, list, false);
+            m.setBody(0, m.claim(m.name(0), great(m, 599), 0, m.number(1)));
+            due("600", m.example(0, 0, 0), 600);
+            due("600 is run", m.isReal(0, 0), true);
+            m.setBody(0, m.claim(m.name(0), great(m, 600), 0, m.number(1)));
+            fails("601", NONE, () -> m.example(0, 0, 0));
+        }
+        RefinementMint n = new RefinementMint();
+        n.addFunction(1, 0, false);
+        n.setBody(0, n.claim(great(n, -599), n.name(0), 0, n.number(1)));
+        due("-600", n.example(0, 0, 0), -600);
+        n.setBody(0, n.claim(great(n, -600), n.name(0), 0, n.number(1)));
+        fails("-601", NONE, () -> n.example(0, 0, 0));
+        due("nor is it real, but sound", n.isSound(), true);
+        // of 1 and -1, 1 comes first; 0 is out
+        RefinementMint k = new RefinementMint();
+        k.addFunction(1, 0, false);
+        k.setBody(0, k.choice('=', k.name(0), k.number(0), k.number(0), k.claim(k.number(1), k.number(0), 0, k.number(0))));
+        due("1 ahead of -1", k.example(0, 0, 0), 1);
+        k.needs(0, 0, -1, 0);
+        due("-1 then", k.example(0, 0, 0), -1);
+        // 5 can not be, as then the result of the call would be 5 and less than 5
+        RefinementMint j = new RefinementMint();
+        j.addFunction(1, 0, false);
+        j.addFunction(1, 0, false);
+        j.gives(1, 3, 0, 0);
+        j.gives(1, -1, 3, -3);
+        j.setBody(0, j.claim(j.call(1, j.name(0), -1, -1), j.number(0), 2, j.number(0)));
+        due("from what is given", j.example(0, 0, 0), 3);
+    }
+
+    private static int doubled(RefinementMint m, int term, int times) {
+        int all = term;
+        for (int i = 0; i < times; i++) {
+            all = m.let(3, all, m.sum(m.name(3), m.name(3)));
+        }
+        return all;
+    }
+
+    private static void greatNumbers() {
+        for (int sign = -1; sign <= 1; sign += 2) {
+            RefinementMint m = new RefinementMint();
+            m.addFunction(1, 0, false);
+            // ((122 * 128) + 9) * 64
+            int million = doubled(m, m.plus(doubled(m, great(m, 122 * sign), 7), 9 * sign), 6);
+            m.setBody(0, m.sum(million, m.name(0)));
+            due("1000000", m.run(0, 0, 0, 0), 'v');
+            due("1000000", m.result(), 1000000 * sign);
+            due("1000001", m.run(0, sign, 0, 0), 'o');
+            fails("no value", NONE, () -> m.result());
+            int part = m.plus(m.number(0), 0);
+            due("a body in place", m.setBody(0, part), '-');
+        }
     }
 
     private static void found() {
@@ -852,6 +991,61 @@ public final class PromiseTest {
         due("what is found is proved", n.runFew(0, 1, 0, 0), 'v');
         due("but for the first need", n.checks(), 2);
         due("the first need", n.runFew(0, -1, 0, 0), 'p');
+    }
+
+    /** Lists that are made in a run stand for their lengths on both sides. */
+    private static void measures() {
+        RefinementMint m = new RefinementMint();
+        m.addFunction(1, 0, false);
+        for (int side = 0; side < 4; side++) {
+            int list = m.ahead(m.number(50), m.ahead(m.number(60), m.empty()));
+            int number = m.name(0);
+            int first = side % 2 == 0 ? list : number;
+            int second = side % 2 == 0 ? number : list;
+            m.setBody(0, side < 2 ? m.choice('<', first, second, m.number(1), m.number(0))
+                    : m.claim(first, second, -1, m.number(1)));
+            for (int n = 1; n <= 3; n++) {
+                boolean isHeld = side % 2 == 0 ? 2 < n : n < 2;
+                due("ends " + side + " " + n, m.run(0, n, 0, 0), side < 2 || isHeld ? 'v' : 'a');
+                if (side < 2) {
+                    due("goes on " + side + " " + n, m.result(), isHeld ? 1 : 0);
+                }
+            }
+        }
+        RefinementMint n = new RefinementMint();
+        n.addFunction(1, 1, true);
+        n.addFunction(1, 0, true);
+        n.needs(0, -1, 0, -2);
+        n.gives(0, 3, -1, 3);
+        n.setBody(0, n.ahead(n.number(77), n.name(0)));
+        n.setBody(1, n.call(0, n.choice('=', n.name(0), n.number(1), n.ahead(n.number(9), n.empty()),
+                n.ahead(n.number(9), n.ahead(n.number(9), n.empty()))), -1, -1));
+        due("a list of 1 at a call", n.run(1, 1, 0, 0), 'p');
+        due("a list of 2 at a call", n.run(1, 2, 0, 0), 'v');
+        due("one more", n.result(), 3);
+        due("checks", n.checks(), 2);
+    }
+
+    private static void manyConditions() {
+        RefinementMint m = new RefinementMint();
+        m.addFunction(1, 0, false);
+        m.addFunction(1, 0, false);
+        m.gives(0, 0, 3, 0);
+        m.needs(1, -1, 0, -7);
+        for (int i = 0; i < 4; i++) {
+            m.needs(0, -1, 0, i - 5);
+        }
+        int term = m.name(0);
+        for (int i = 0; i < 70; i++) {
+            term = m.call(0, term, -1, -1);
+        }
+        m.setBody(1, m.let(9, wayFan(m, 5), term));
+        due("32 ways with 70 calls with 4 atoms", m.conditions(1), 32 * 70 * 4);
+        due("all proved", m.isProved(1, 32 * 70 * 4 - 1), true);
+        due("facts", m.facts(1, 32 * 70 * 4 - 1), 1 + 5 + 69);
+        due("needed: the first, and what each call gives", m.needed(1, 70 * 4 - 1), 1 + 69);
+        fails("no more", NONE, () -> m.kindOf(1, 32 * 70 * 4));
+        dueReal("all proved", m.provedShare(), 1);
     }
 
     private static void shares() {
