@@ -57,10 +57,7 @@ public final class RefinementMint {
     }
 
     public int needs(int function, int first, int second, int most) {
-        Function asker = functionAt(function);
-        if (asker == null) {
-            throw new IndexOutOfBoundsException();
-        }
+        Function asker = existing(function);
         if (!asker.hasParameter(first) && first != NOTHING || !asker.hasParameter(second) && second != NOTHING
                 || first == second || !isSmall(most)) {
             throw new IllegalArgumentException();
@@ -69,10 +66,7 @@ public final class RefinementMint {
     }
 
     public int gives(int function, int first, int second, int most) {
-        Function giver = functionAt(function);
-        if (giver == null) {
-            throw new IndexOutOfBoundsException();
-        }
+        Function giver = existing(function);
         if (!giver.hasThing(first) || !giver.hasThing(second) || first == second || !isSmall(most)) {
             throw new IllegalArgumentException();
         }
@@ -80,18 +74,12 @@ public final class RefinementMint {
     }
 
     public int findNeeds(int function) {
-        Function asker = functionAt(function);
-        if (asker == null) {
-            throw new IndexOutOfBoundsException();
-        }
+        Function asker = existing(function);
         return leaveToFind(asker.wants);
     }
 
     public int findGives(int function) {
-        Function giver = functionAt(function);
-        if (giver == null) {
-            throw new IndexOutOfBoundsException();
-        }
+        Function giver = existing(function);
         return leaveToFind(giver.yields);
     }
 
@@ -107,10 +95,7 @@ public final class RefinementMint {
     }
 
     public int metric(int function, int first, int firstPlus, int second, int secondPlus) {
-        Function measured = functionAt(function);
-        if (measured == null) {
-            throw new IndexOutOfBoundsException();
-        }
+        Function measured = existing(function);
         if (!measured.hasParameter(first) || !isSmall(firstPlus)
                 || second != -1 && (!measured.hasParameter(second) || !isSmall(secondPlus))) {
             throw new IllegalArgumentException();
@@ -125,10 +110,7 @@ public final class RefinementMint {
     }
 
     public boolean setLazy(int function, boolean isLazy) {
-        Function changed = functionAt(function);
-        if (changed == null) {
-            throw new IndexOutOfBoundsException();
-        }
+        Function changed = existing(function);
         boolean wasLazy = changed.isLazy;
         changed.isLazy = isLazy;
         analysis.forget();
@@ -136,8 +118,8 @@ public final class RefinementMint {
     }
 
     public char setBody(int function, int body) {
-        Function owner = functionAt(function);
-        if (owner == null || !terms.has(body)) {
+        Function owner = existing(function);
+        if (!terms.has(body)) {
             throw new IndexOutOfBoundsException();
         }
         if (terms.isTakenAt(body)) {
@@ -244,18 +226,12 @@ public final class RefinementMint {
     }
 
     public char error(int function) {
-        Function owner = functionAt(function);
-        if (owner == null) {
-            throw new IndexOutOfBoundsException();
-        }
+        Function owner = existing(function);
         return owner.fault;
     }
 
     public int errorAt(int function) {
-        Function owner = functionAt(function);
-        if (owner == null) {
-            throw new IndexOutOfBoundsException();
-        }
+        Function owner = existing(function);
         if (owner.fault == '-' || owner.fault == 'b') {
             throw new NoSuchElementException();
         }
@@ -318,8 +294,8 @@ public final class RefinementMint {
     public int example(int function, int index, int parameter) {
         analysis.refresh();
         boolean isProved = Analysis.isProvedIn(storedCondition(function, index));
-        Function owner = functionAt(function);
-        if (isProved || owner == null || !owner.hasParameter(parameter)) {
+        Function owner = existing(function);
+        if (isProved || !owner.hasParameter(parameter)) {
             throw new NoSuchElementException();
         }
         analysis.walkTo(function, index);
@@ -332,8 +308,8 @@ public final class RefinementMint {
     public boolean isReal(int function, int index) {
         analysis.refresh();
         int stored = storedCondition(function, index);
-        Function owner = functionAt(function);
-        if (Analysis.isProvedIn(stored) || owner == null) {
+        Function owner = existing(function);
+        if (Analysis.isProvedIn(stored)) {
             throw new NoSuchElementException();
         }
         analysis.walkTo(function, index);
@@ -344,46 +320,31 @@ public final class RefinementMint {
     }
 
     public int allNeeds(int function) {
-        Function asker = functionAt(function);
-        if (asker == null) {
-            throw new IndexOutOfBoundsException();
-        }
+        Function asker = existing(function);
         analysis.refresh();
         return asker.wants.size;
     }
 
     public boolean doesNeed(int function, int first, int second, int most) {
-        Function asker = functionAt(function);
-        if (asker == null) {
-            throw new IndexOutOfBoundsException();
-        }
+        Function asker = existing(function);
         analysis.refresh();
         return isAtom(first, second, most) && asker.wants.has(Atoms.codeOf(first, second, most));
     }
 
     public int allGives(int function) {
-        Function giver = functionAt(function);
-        if (giver == null) {
-            throw new IndexOutOfBoundsException();
-        }
+        Function giver = existing(function);
         analysis.refresh();
         return giver.yields.size;
     }
 
     public boolean doesGive(int function, int first, int second, int most) {
-        Function giver = functionAt(function);
-        if (giver == null) {
-            throw new IndexOutOfBoundsException();
-        }
+        Function giver = existing(function);
         analysis.refresh();
         return isAtom(first, second, most) && giver.yields.has(Atoms.codeOf(first, second, most));
     }
 
     public boolean isInRing(int function) {
-        Function owner = functionAt(function);
-        if (owner == null) {
-            throw new IndexOutOfBoundsException();
-        }
+        Function owner = existing(function);
         return owner.comesTo(function);
     }
 
@@ -456,6 +417,14 @@ public final class RefinementMint {
         return function >= 0 && function < functionCount && function < functions.length ? functions[function] : null;
     }
 
+    private Function existing(int function) {
+        Function asked = functionAt(function);
+        if (asked == null) {
+            throw new IndexOutOfBoundsException();
+        }
+        return asked;
+    }
+
     private int tell(Atoms atoms, int code) {
         if (!atoms.isFound && !atoms.has(code) && atoms.size >= MOST_TOLD) {
             throw new IllegalStateException();
@@ -500,10 +469,7 @@ public final class RefinementMint {
     }
 
     private Function faultless(int function) {
-        Function owner = functionAt(function);
-        if (owner == null) {
-            throw new IndexOutOfBoundsException();
-        }
+        Function owner = existing(function);
         if (owner.fault != '-') {
             throw new IllegalStateException();
         }
@@ -512,13 +478,7 @@ public final class RefinementMint {
 
     /** What is stored of a condition behind refresh, as Analysis packs it. */
     private int storedCondition(int function, int index) {
-        Function owner = functionAt(function);
-        if (owner == null) {
-            throw new IndexOutOfBoundsException();
-        }
-        if (owner.fault != '-') {
-            throw new IllegalStateException();
-        }
+        Function owner = faultless(function);
         int place = owner.firstCondition + index;
         if (index < 0 || index >= owner.conditionCount || place < 0 || place >= analysis.stored.length) {
             throw new NoSuchElementException();
@@ -527,10 +487,7 @@ public final class RefinementMint {
     }
 
     private char runAsked(int function, int first, int second, int third, boolean isFew) {
-        Function started = functionAt(function);
-        if (started == null) {
-            throw new IndexOutOfBoundsException();
-        }
+        Function started = existing(function);
         asked[0] = first;
         asked[1] = second;
         asked[2] = third;
