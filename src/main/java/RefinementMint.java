@@ -44,7 +44,7 @@ public final class RefinementMint {
         lastEnd = '-';
     }
 
-    public int addFunction(int parameters, int lists, boolean isList) {
+    public int addFunction(int parameters, int lists, boolean isList) throws IllegalArgumentException, IllegalStateException {
         if (parameters < 0 || parameters > MOST_PARAMETERS || lists < 0 || lists >= 1 << parameters) {
             throw new IllegalArgumentException();
         }
@@ -56,7 +56,7 @@ public final class RefinementMint {
         return functionCount - 1;
     }
 
-    public int needs(int function, int first, int second, int most) {
+    public int needs(int function, int first, int second, int most) throws IndexOutOfBoundsException, IllegalArgumentException, IllegalStateException {
         Function asker = existing(function);
         if (!asker.hasParameter(first) && first != NOTHING || !asker.hasParameter(second) && second != NOTHING
                 || first == second || !isSmall(most)) {
@@ -65,7 +65,7 @@ public final class RefinementMint {
         return tell(asker.wants, Atoms.codeOf(first, second, most));
     }
 
-    public int gives(int function, int first, int second, int most) {
+    public int gives(int function, int first, int second, int most) throws IndexOutOfBoundsException, IllegalArgumentException, IllegalStateException {
         Function giver = existing(function);
         if (!giver.hasThing(first) || !giver.hasThing(second) || first == second || !isSmall(most)) {
             throw new IllegalArgumentException();
@@ -73,17 +73,17 @@ public final class RefinementMint {
         return tell(giver.yields, Atoms.codeOf(first, second, most));
     }
 
-    public int findNeeds(int function) {
+    public int findNeeds(int function) throws IndexOutOfBoundsException {
         Function asker = existing(function);
         return leaveToFind(asker.wants);
     }
 
-    public int findGives(int function) {
+    public int findGives(int function) throws IndexOutOfBoundsException {
         Function giver = existing(function);
         return leaveToFind(giver.yields);
     }
 
-    public int pattern(int first, int second, int most) {
+    public int pattern(int first, int second, int most) throws IllegalArgumentException, IllegalStateException {
         if (first < 0 || first > 2 || second < 0 || second > 2 || first == second && first != 1 || !isSmall(most)) {
             throw new IllegalArgumentException();
         }
@@ -94,7 +94,7 @@ public final class RefinementMint {
         return analysis.patternCount;
     }
 
-    public int metric(int function, int first, int firstPlus, int second, int secondPlus) {
+    public int metric(int function, int first, int firstPlus, int second, int secondPlus) throws IndexOutOfBoundsException, IllegalArgumentException {
         Function measured = existing(function);
         if (!measured.hasParameter(first) || !isSmall(firstPlus)
                 || second != -1 && (!measured.hasParameter(second) || !isSmall(secondPlus))) {
@@ -109,7 +109,7 @@ public final class RefinementMint {
         return measured.places;
     }
 
-    public boolean setLazy(int function, boolean isLazy) {
+    public boolean setLazy(int function, boolean isLazy) throws IndexOutOfBoundsException {
         Function changed = existing(function);
         boolean wasLazy = changed.isLazy;
         changed.isLazy = isLazy;
@@ -117,7 +117,7 @@ public final class RefinementMint {
         return wasLazy;
     }
 
-    public char setBody(int function, int body) {
+    public char setBody(int function, int body) throws IndexOutOfBoundsException, UnsupportedOperationException {
         Function owner = existing(function);
         if (!terms.has(body)) {
             throw new IndexOutOfBoundsException();
@@ -134,21 +134,21 @@ public final class RefinementMint {
         return owner.fault;
     }
 
-    public int number(int value) {
+    public int number(int value) throws IllegalArgumentException, IllegalStateException {
         if (!isSmall(value)) {
             throw new IllegalArgumentException();
         }
         return make(Terms.NUMBER, value, 0, 0);
     }
 
-    public int name(int name) {
+    public int name(int name) throws IllegalArgumentException, IllegalStateException {
         if (!isName(name)) {
             throw new IllegalArgumentException();
         }
         return make(Terms.NAME, name, 0, 0);
     }
 
-    public int plus(int term, int more) {
+    public int plus(int term, int more) throws IllegalArgumentException, IndexOutOfBoundsException, UnsupportedOperationException, IllegalStateException {
         if (!isSmall(more)) {
             throw new IllegalArgumentException();
         }
@@ -156,13 +156,13 @@ public final class RefinementMint {
         return make(Terms.PLUS, more, 0, 1);
     }
 
-    public int sum(int first, int second) {
+    public int sum(int first, int second) throws IndexOutOfBoundsException, UnsupportedOperationException, IllegalStateException {
         asked[0] = first;
         asked[1] = second;
         return make(Terms.SUM, 0, 0, 2);
     }
 
-    public int let(int name, int bound, int body) {
+    public int let(int name, int bound, int body) throws IllegalArgumentException, IndexOutOfBoundsException, UnsupportedOperationException, IllegalStateException {
         if (!isName(name)) {
             throw new IllegalArgumentException();
         }
@@ -171,7 +171,7 @@ public final class RefinementMint {
         return make(Terms.LET, name, 0, 2);
     }
 
-    public int choice(char comparison, int first, int second, int yes, int no) {
+    public int choice(char comparison, int first, int second, int yes, int no) throws IllegalArgumentException, IndexOutOfBoundsException, UnsupportedOperationException, IllegalStateException {
         if (comparison != '<' && comparison != '=') {
             throw new IllegalArgumentException();
         }
@@ -182,7 +182,7 @@ public final class RefinementMint {
         return make(Terms.CHOICE, comparison, 0, 4);
     }
 
-    public int call(int function, int first, int second, int third) {
+    public int call(int function, int first, int second, int third) throws NoSuchElementException, IndexOutOfBoundsException, UnsupportedOperationException, IllegalStateException {
         if (functionAt(function) == null) {
             throw new NoSuchElementException();
         }
@@ -195,17 +195,17 @@ public final class RefinementMint {
         return make(Terms.CALL, function, 0, first == -1 ? 0 : second == -1 ? 1 : third == -1 ? 2 : 3);
     }
 
-    public int empty() {
+    public int empty() throws IllegalStateException {
         return make(Terms.EMPTY, 0, 0, 0);
     }
 
-    public int ahead(int first, int rest) {
+    public int ahead(int first, int rest) throws IndexOutOfBoundsException, UnsupportedOperationException, IllegalStateException {
         asked[0] = first;
         asked[1] = rest;
         return make(Terms.AHEAD, 0, 0, 2);
     }
 
-    public int match(int list, int none, int first, int rest, int some) {
+    public int match(int list, int none, int first, int rest, int some) throws IllegalArgumentException, IndexOutOfBoundsException, UnsupportedOperationException, IllegalStateException {
         if (!isName(first) || !isName(rest) || first == rest) {
             throw new IllegalArgumentException();
         }
@@ -215,7 +215,7 @@ public final class RefinementMint {
         return make(Terms.MATCH, first, rest, 3);
     }
 
-    public int claim(int first, int second, int most, int term) {
+    public int claim(int first, int second, int most, int term) throws IllegalArgumentException, IndexOutOfBoundsException, UnsupportedOperationException, IllegalStateException {
         if (!isSmall(most)) {
             throw new IllegalArgumentException();
         }
@@ -225,12 +225,12 @@ public final class RefinementMint {
         return make(Terms.CLAIM, most, 0, 3);
     }
 
-    public char error(int function) {
+    public char error(int function) throws IndexOutOfBoundsException {
         Function owner = existing(function);
         return owner.fault;
     }
 
-    public int errorAt(int function) {
+    public int errorAt(int function) throws IndexOutOfBoundsException, NoSuchElementException {
         Function owner = existing(function);
         if (owner.fault == '-' || owner.fault == 'b') {
             throw new NoSuchElementException();
@@ -238,37 +238,37 @@ public final class RefinementMint {
         return owner.faultAt;
     }
 
-    public int ways(int function) {
+    public int ways(int function) throws IndexOutOfBoundsException, IllegalStateException {
         return faultless(function).wayCount;
     }
 
-    public int conditions(int function) {
+    public int conditions(int function) throws IndexOutOfBoundsException, IllegalStateException {
         Function owner = faultless(function);
         analysis.refresh();
         return owner.conditionCount;
     }
 
-    public char kindOf(int function, int index) {
+    public char kindOf(int function, int index) throws IndexOutOfBoundsException, IllegalStateException, NoSuchElementException {
         analysis.refresh();
         return Analysis.kindIn(storedCondition(function, index));
     }
 
-    public int termOf(int function, int index) {
+    public int termOf(int function, int index) throws IndexOutOfBoundsException, IllegalStateException, NoSuchElementException {
         analysis.refresh();
         return Analysis.termIn(storedCondition(function, index));
     }
 
-    public boolean isProved(int function, int index) {
+    public boolean isProved(int function, int index) throws IndexOutOfBoundsException, IllegalStateException, NoSuchElementException {
         analysis.refresh();
         return Analysis.isProvedIn(storedCondition(function, index));
     }
 
-    public int facts(int function, int index) {
+    public int facts(int function, int index) throws IndexOutOfBoundsException, IllegalStateException, NoSuchElementException {
         analysis.refresh();
         return Analysis.factsIn(storedCondition(function, index));
     }
 
-    public int needed(int function, int index) {
+    public int needed(int function, int index) throws IndexOutOfBoundsException, IllegalStateException, NoSuchElementException, UnsupportedOperationException {
         analysis.refresh();
         if (!Analysis.isProvedIn(storedCondition(function, index))) {
             throw new UnsupportedOperationException();
@@ -278,7 +278,7 @@ public final class RefinementMint {
         return prover.neededCount;
     }
 
-    public int neededAt(int function, int index, int place) {
+    public int neededAt(int function, int index, int place) throws IndexOutOfBoundsException, IllegalStateException, NoSuchElementException, UnsupportedOperationException {
         analysis.refresh();
         if (!Analysis.isProvedIn(storedCondition(function, index))) {
             throw new UnsupportedOperationException();
@@ -291,7 +291,7 @@ public final class RefinementMint {
         return prover.needed[place];
     }
 
-    public int example(int function, int index, int parameter) {
+    public int example(int function, int index, int parameter) throws IndexOutOfBoundsException, IllegalStateException, NoSuchElementException {
         analysis.refresh();
         boolean isProved = Analysis.isProvedIn(storedCondition(function, index));
         Function owner = existing(function);
@@ -305,7 +305,7 @@ public final class RefinementMint {
         return prover.chosenAt(parameter);
     }
 
-    public boolean isReal(int function, int index) {
+    public boolean isReal(int function, int index) throws IndexOutOfBoundsException, IllegalStateException, NoSuchElementException {
         analysis.refresh();
         int stored = storedCondition(function, index);
         Function owner = existing(function);
@@ -319,46 +319,46 @@ public final class RefinementMint {
         return analysis.isRunnable(owner) && runner.execute(owner, prover.chosen, false) == Analysis.kindIn(stored);
     }
 
-    public int allNeeds(int function) {
+    public int allNeeds(int function) throws IndexOutOfBoundsException {
         Function asker = existing(function);
         analysis.refresh();
         return asker.wants.size;
     }
 
-    public boolean doesNeed(int function, int first, int second, int most) {
+    public boolean doesNeed(int function, int first, int second, int most) throws IndexOutOfBoundsException {
         Function asker = existing(function);
         analysis.refresh();
         return isAtom(first, second, most) && asker.wants.has(Atoms.codeOf(first, second, most));
     }
 
-    public int allGives(int function) {
+    public int allGives(int function) throws IndexOutOfBoundsException {
         Function giver = existing(function);
         analysis.refresh();
         return giver.yields.size;
     }
 
-    public boolean doesGive(int function, int first, int second, int most) {
+    public boolean doesGive(int function, int first, int second, int most) throws IndexOutOfBoundsException {
         Function giver = existing(function);
         analysis.refresh();
         return isAtom(first, second, most) && giver.yields.has(Atoms.codeOf(first, second, most));
     }
 
-    public boolean isInRing(int function) {
+    public boolean isInRing(int function) throws IndexOutOfBoundsException {
         Function owner = existing(function);
         return owner.comesTo(function);
     }
 
-    public char run(int function, int first, int second, int third) {
+    public char run(int function, int first, int second, int third) throws IndexOutOfBoundsException, IllegalArgumentException, IllegalStateException {
         analysis.refresh();
         return runAsked(function, first, second, third, false);
     }
 
-    public char runFew(int function, int first, int second, int third) {
+    public char runFew(int function, int first, int second, int third) throws IndexOutOfBoundsException, IllegalArgumentException, IllegalStateException {
         analysis.refresh();
         return runAsked(function, first, second, third, true);
     }
 
-    public int result() {
+    public int result() throws NoSuchElementException {
         if (lastEnd != 'v') {
             throw new NoSuchElementException();
         }
@@ -378,7 +378,7 @@ public final class RefinementMint {
         return analysis.storedCount;
     }
 
-    public float provedShare() {
+    public float provedShare() throws ArithmeticException {
         analysis.refresh();
         if (analysis.storedCount == 0) {
             throw new ArithmeticException();
@@ -386,7 +386,7 @@ public final class RefinementMint {
         return (float) analysis.provedCount / (float) analysis.storedCount;
     }
 
-    public double meanNeeded() {
+    public double meanNeeded() throws ArithmeticException {
         analysis.refresh();
         if (analysis.provedCount == 0) {
             throw new ArithmeticException();
