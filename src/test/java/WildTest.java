@@ -1,8 +1,11 @@
+import java.lang.reflect.Method;
+import java.util.List;
 import java.util.Random;
 
 /**
  * Calls of every method with any arguments, in any order: none may end by an exception of the machine, which, unlike
- * those that are thrown on purpose, have a message. Arguments: the first seed and how many (by default 1 and 300).
+ * those that are thrown on purpose, have a message, nor by one that the method does not declare. Arguments: the first
+ * seed and how many (by default 1 and 300).
  */
 public final class WildTest {
     private static final int[] ODD = {Integer.MIN_VALUE, Integer.MAX_VALUE, -2, -1, 0, 1, 2, 3, 4, 5, 6, 99, 100, -99, -100,
@@ -26,15 +29,30 @@ public final class WildTest {
                 try {
                     test.call(method);
                 } catch (RuntimeException e) {
-                    if (e.getMessage() != null || !e.getStackTrace()[0].getClassName().equals("RefinementMint")) {
+                    if (e.getMessage() != null || !e.getStackTrace()[0].getClassName().equals("RefinementMint")
+                            || !isDeclared(e)) {
                         wrong++;
                         System.out.println("seed " + seed + " call " + call + " of " + method + ": " + e);
                     }
                 }
             }
         }
-        System.out.println(wrong == 0 ? "the machine threw nothing" : wrong + " exceptions of the machine");
+        System.out.println(wrong == 0 ? "the machine threw nothing" : wrong + " exceptions that are not due");
         System.exit(wrong == 0 ? 0 : 1);
+    }
+
+    /** Whether the method of the face that was called, the outermost one of the class, declares the exception. */
+    private static boolean isDeclared(RuntimeException thrown) {
+        String called = "";
+        for (StackTraceElement frame : thrown.getStackTrace()) {
+            called = frame.getClassName().equals("RefinementMint") ? frame.getMethodName() : called;
+        }
+        for (Method method : RefinementMint.class.getMethods()) {
+            if (method.getName().equals(called)) {
+                return List.of(method.getExceptionTypes()).contains(thrown.getClass());
+            }
+        }
+        return false;
     }
 
     private int any() {
