@@ -128,7 +128,8 @@ class Bench {
         return text.substring(Math.max(0, at - 30), Math.min(text.length(), at + 30));
     }
 
-    private static String told(Ask ask) {
+    /** What a call answers, or the exception by which it ends. */
+    static String told(Ask ask) {
         try {
             return " " + ask.ask();
         } catch (RuntimeException e) {

@@ -4,7 +4,7 @@
  */
 public final class ParagraphBoundaryTest extends Bench {
     public static void main(String[] args) {
-        runAll(ParagraphBoundaryTest.class, 66);
+        runAll(ParagraphBoundaryTest.class, 76);
     }
 
     /** What it is: "An object is used for at most 512 calls": the 512th one answers as it has to. */
@@ -18,11 +18,22 @@ public final class ParagraphBoundaryTest extends Bench {
         }
         due("the 512th", m.run(0, -1, 0, 0), 'p');
         RefinementMint n = rich();
-        for (int i = 0; i < 440; i++) {
+        for (int i = 0; i < 220; i++) {
             n.setLazy(SUMS, i % 2 == 0);
             n.setLazy(SUMS, false);
         }
         due("sound behind many changes", n.isSound(), true);
+        RefinementMint k = withFunction(1, 0, false);
+        int term = k.claim(k.name(0), k.number(0), 0, k.number(1));
+        for (int i = 0; i < 20; i++) {
+            term = k.sum(k.name(0), term);
+        }
+        k.setBody(0, term);
+        for (int i = 0; i < 400; i++) {
+            due("ends within many sums", k.run(0, 1, 0, 0), 'a');
+        }
+        due("a value behind many runs without one", k.run(0, -1, 0, 0), 'v');
+        due("1 less 20", k.result(), -19);
     }
 
     /** Terms, Values: "In conditions, a list stands for its length": from 0 on. */
@@ -93,6 +104,60 @@ public final class ParagraphBoundaryTest extends Bench {
         }
     }
 
+    /** Terms, Terms: a comparison and a claim of a list and a number, either way round: one below, the same, one above. */
+    static void paragraphTermsComparisonsOfOneOfEach() {
+        for (int lists = 1; lists <= 2; lists++) {
+            for (int more = -1; more <= 1; more++) {
+                RefinementMint m = withFunction(2, lists, false);
+                m.setBody(0, m.choice('<', m.name(0), m.name(1), m.number(1), m.number(0)));
+                m.run(0, 5, 5 + more, 0);
+                due("less", m.result(), more > 0 ? 1 : 0);
+                m.setBody(0, m.choice('=', m.name(0), m.name(1), m.number(1), m.number(0)));
+                m.run(0, 5, 5 + more, 0);
+                due("the same", m.result(), more == 0 ? 1 : 0);
+                m.setBody(0, m.claim(m.name(0), m.name(1), 0, m.number(0)));
+                due("a claim", m.run(0, 5, 5 + more, 0), more < 0 ? 'a' : 'v');
+            }
+        }
+        for (int more = -1; more <= 1; more++) {
+            for (int way = 0; way < 2; way++) {
+                RefinementMint m = withFunction(2, 1, false);
+                int first = way == 0 ? m.ahead(m.number(50), m.name(0)) : m.name(1);
+                int second = way == 0 ? m.name(1) : m.ahead(m.number(50), m.name(0));
+                m.setBody(0, m.choice('<', first, second, m.number(1), m.number(0)));
+                m.run(0, 5, 6 + more, 0);
+                due("a list that is made, and a number", m.result(), (way == 0 ? more > 0 : more < 0) ? 1 : 0);
+                first = way == 0 ? m.ahead(m.number(50), m.name(0)) : m.name(1);
+                second = way == 0 ? m.name(1) : m.ahead(m.number(50), m.name(0));
+                m.setBody(0, m.claim(first, second, 0, m.number(0)));
+                due("a claim of it", m.run(0, 5, 6 + more, 0), (way == 0 ? more < 0 : more > 0) ? 'a' : 'v');
+            }
+        }
+    }
+
+    /** Terms, Terms: "the empty list; a list with one number ahead of another list": its numbers, from the first to the last one. */
+    static void paragraphTermsNumbersOfLists() {
+        for (int length = 0; length <= 2; length++) {
+            RefinementMint m = withFunction(1, 1, false);
+            m.setBody(0, m.number(0));
+            m.run(0, 9, 0, 0);
+            int list = m.empty();
+            for (int i = length; i > 0; i--) {
+                list = m.ahead(m.number(10 * i), list);
+            }
+            int second = m.match(m.name(4), m.name(3), 3, 5, m.sum(m.name(3), m.name(3)));
+            m.setBody(0, m.match(list, m.number(7), 3, 4, second));
+            due("run", m.run(0, 9, 0, 0), 'v');
+            due("none, the first one, or the second one twice", m.result(), length == 0 ? 7 : length == 1 ? 10 : 40);
+        }
+        RefinementMint m = withFunction(1, 1, true);
+        m.gives(0, 3, 0, 2);
+        m.gives(0, 0, 3, -2);
+        m.setBody(0, m.ahead(m.number(1), m.ahead(m.number(2), m.name(0))));
+        due("two more than the parameter", m.run(0, 99, 0, 0), 'v');
+        due("101", m.result(), 101);
+    }
+
     /** Terms, Terms: a match "with a term if it is empty, and another one in which its first number and the rest are bound". */
     static void paragraphTermsMatchOfEmptyAndOfOne() {
         RefinementMint m = withFunction(1, 1, false);
@@ -116,6 +181,43 @@ public final class ParagraphBoundaryTest extends Bench {
                     m.run(0, 10, 11, 12);
                     due("its value", m.result(), 10 + name);
                 }
+            }
+        }
+    }
+
+    /** Terms, Functions: "the names 0, 1 and 2 in its body": of the body of each call its own ones, and behind it those of before. */
+    static void paragraphFunctionsNamesOfEachCall() {
+        RefinementMint m = withFunction(2, 0, false);
+        m.addFunction(2, 0, false);
+        m.addFunction(1, 0, false);
+        m.setBody(0, m.let(0, m.plus(m.name(1), 20), m.let(9, m.name(0), m.name(9))));
+        int call = m.call(0, m.name(1), m.name(0), -1);
+        m.setBody(1, m.let(9, m.number(50), m.sum(call, m.sum(m.name(0), m.name(9)))));
+        due("run", m.run(1, 1, 2, 0), 'v');
+        due("1 + 20, and 1, and 50", m.result(), 72);
+        int deep = m.call(2, m.plus(m.name(0), -1), -1, -1);
+        m.setBody(2, m.choice('<', m.name(0), m.number(1), m.number(0), m.sum(deep, m.name(0))));
+        due("run", m.run(2, 20, 0, 0), 'v');
+        due("1 to 20", m.result(), 210);
+    }
+
+    /** Terms, Terms: "a let, which binds a name in a body"; a match "in which .. are bound otherwise": behind it, a name is as before. */
+    static void paragraphTermsNamesBehindTheirTerms() {
+        for (int length = 0; length <= 1; length++) {
+            for (int most = -1; most <= 0; most++) {
+                RefinementMint m = withFunction(3, 4, false);
+                int inner = m.let(0, m.plus(m.name(1), 30), m.let(0, m.plus(m.name(0), 1), m.name(0)));
+                int within = m.match(m.name(2), m.name(1), 0, 1, m.let(1, m.plus(m.name(0), 40), m.name(1)));
+                int behind = m.claim(m.name(0), m.name(1), most, m.sum(m.name(0), m.name(1)));
+                m.needs(0, 0, 1, 0);
+                m.setBody(0, m.sum(inner, m.sum(within, behind)));
+                due("no error", m.error(0), '-');
+                for (int i = 0; i < 2; i++) {
+                    due("the first less the second one is at most 0", m.isProved(0, i), most == 0);
+                }
+                due("run", m.run(0, 3, 4, length), 'v');
+                due("value", m.result(), 35 + (length == 0 ? 4 : 40) + 7);
+                due("run", m.run(0, 4, 4, length), most == 0 ? 'v' : 'a');
             }
         }
     }
@@ -178,6 +280,23 @@ public final class ParagraphBoundaryTest extends Bench {
         due("only the third one is the result", n.allGives(0), 1);
         due("the third one less the result", n.doesGive(0, 2, 3, 0), true);
         due("not the first one", n.doesGive(0, 0, 3, 0), false);
+    }
+
+    /** Terms, Conditions: "without the result for what it needs": where no call lets an atom fall, too. */
+    static void paragraphConditionsWithoutTheResult() {
+        for (int first = 0; first <= 2; first++) {
+            for (int second = 0; second <= 2; second++) {
+                if (first != second) {
+                    RefinementMint m = withFunction(2, 0, false);
+                    m.findNeeds(0);
+                    m.pattern(first, second, 5);
+                    m.setBody(0, m.name(0));
+                    due("of " + first + " and " + second, m.allNeeds(0), first == 2 || second == 2 ? 0 : 2);
+                    due("the result first", m.doesNeed(0, 3, -1, 5), false);
+                    due("the result second", m.doesNeed(0, -1, 3, 5), false);
+                }
+            }
+        }
     }
 
     /** Terms, Conditions: "An atom is told, or found, once only, even if several patterns have it." */
@@ -479,6 +598,25 @@ public final class ParagraphBoundaryTest extends Bench {
         inner = m.choice('=', m.name(0), m.number(1), m.number(1), m.number(2));
         m.setBody(0, m.choice('<', m.number(1), inner, m.number(1), m.number(2)));
         due("one in the comparison", m.ways(0), 4);
+        for (int place = 0; place < 4; place++) {
+            RefinementMint n = withFunction(2, 1, false);
+            int[] part = {n.name(1), n.number(2), n.number(3), n.number(4)};
+            part[place] = n.choice('=', n.name(0), n.number(1), n.number(1), n.number(2));
+            n.setBody(0, n.choice('<', part[0], part[1], part[2], part[3]));
+            due("one in part " + place + " of a choice", n.ways(0), place < 2 ? 4 : 3);
+            int[] other = {n.name(0), n.number(2), n.number(3)};
+            if (place < 3) {
+                other[place] = n.choice('=', n.name(0), n.number(1), place == 0 ? n.empty() : n.number(1), place == 0 ? n.name(0) : n.number(2));
+                n.setBody(0, n.match(other[0], other[1], 3, 4, other[2]));
+                due("one in part " + place + " of a match", n.ways(0), place < 1 ? 4 : 3);
+                other[place] = n.choice('=', n.name(0), n.number(1), n.number(1), n.number(2));
+                for (int i = 0; i < 3; i++) {
+                    other[i] = i == place ? other[i] : n.number(1);
+                }
+                n.setBody(0, n.claim(other[0], other[1], 0, other[2]));
+                due("one in part " + place + " of a claim", n.ways(0), 2);
+            }
+        }
     }
 
     /** Terms, Ways: how many facts come at the beginning: a list "is not less than 0", "then what the function needs". */
@@ -674,6 +812,21 @@ public final class ParagraphBoundaryTest extends Bench {
         due("both at the end alike", m.facts(0, 5), m.facts(0, 4));
     }
 
+    /** Terms, What is to be proved: "at the end, each atom that the function itself gives": of its own parameters, whatever it called. */
+    static void paragraphProvedEndsBehindCalls() {
+        for (int most = 4; most <= 5; most++) {
+            RefinementMint m = withFunction(2, 0, false);
+            m.addFunction(2, 0, false);
+            m.gives(0, 3, 0, 0);
+            m.gives(1, 3, 0, most);
+            m.gives(1, 0, 1, most - 5);
+            m.needs(1, 0, 1, 0);
+            m.setBody(1, m.plus(m.call(0, m.name(0), m.number(9), -1), 5));
+            due("the first less the second one", m.isProved(1, 0), most == 5);
+            due("the result less the first one", m.isProved(1, 1), most == 5);
+        }
+    }
+
     /** Terms, What is to be proved: "What comes ahead of a parting of ways comes once." What comes behind it comes on each. */
     static void paragraphProvedOnceAheadOfAParting() {
         for (int place = 0; place < 5; place++) {
@@ -775,6 +928,90 @@ public final class ParagraphBoundaryTest extends Bench {
             int claim = m.claim(m.name(0), m.number(0), -99, m.number(0));
             m.setBody(0, claim);
             due("numbers at most 0 and at least 1 apart", m.isProved(0, 0), most == 0);
+        }
+    }
+
+    /** Terms, What is to be proved: "for all whole numbers": a row of numbers from which one after the other is left out. */
+    static void paragraphProvedWhereNoNumberIsLeft() {
+        for (int width = 0; width <= 3; width++) {
+            for (int left = -1; left <= width; left++) {
+                RefinementMint m = withFunction(1, 0, false);
+                m.needs(0, -1, 0, 0);
+                m.needs(0, 0, -1, width);
+                int term = wrong(m);
+                for (int number = 0; number <= width; number++) {
+                    if (number != left) {
+                        term = m.choice('=', m.name(0), m.number(number), m.number(0), term);
+                    }
+                }
+                m.setBody(0, term);
+                m.addFunction(1, 0, false);
+                m.setBody(1, wrong(m));
+                due("all but " + left + " of " + width, m.isProved(0, 0), left == -1);
+                if (left >= 0) {
+                    due("that one", m.example(0, 0, 0), left);
+                } else {
+                    due("by all facts", m.needed(0, 0), m.facts(0, 0));
+                }
+            }
+        }
+    }
+
+    /** Three numbers, each unlike the two others, from 0 to some number. */
+    private static RefinementMint apart(int most, boolean isUnlikeFirst) {
+        RefinementMint m = withFunction(3, 0, false);
+        int term = wrong(m);
+        for (int turn = 0; turn < 2; turn++) {
+            for (int i = 2; i >= 0; i--) {
+                if (isUnlikeFirst == (turn == 1)) {
+                    term = m.choice('=', m.name(i), m.name((i + 1) % 3), m.number(0), term);
+                } else {
+                    term = m.claim(m.number(0), m.name(i), 0, m.claim(m.name(i), m.number(most), 0, term));
+                }
+            }
+        }
+        m.setBody(0, term);
+        return m;
+    }
+
+    /** Terms, What is to be proved: "for all whole numbers": three that are all unlike find no room in two, and room in three. */
+    static void paragraphProvedWhereAllAreUnlike() {
+        for (int order = 0; order < 2; order++) {
+            for (int most = 0; most <= 2; most++) {
+                RefinementMint m = apart(most, order == 1);
+                due("facts", m.facts(0, 6), 9);
+                due("from 0 to " + most, m.isProved(0, 6), most < 2);
+                if (most == 1) {
+                    due("by all of them", m.needed(0, 6), 9);
+                    due("the last one", m.neededAt(0, 6, 8), 8);
+                }
+                if (most == 2) {
+                    due("0", m.example(0, 6, 0), 0);
+                    due("1", m.example(0, 6, 1), 1);
+                    due("2", m.example(0, 6, 2), 2);
+                    due("but a claim comes ahead", m.isReal(0, 6), true);
+                }
+                due("sound", m.isSound(), true);
+            }
+        }
+    }
+
+    /** Terms, Ways: "results of calls" and "sums of two terms" are things: as many as a body can have. */
+    static void paragraphWaysManyThings() {
+        for (int most = 4; most <= 5; most++) {
+            RefinementMint m = withFunction(0, 0, false);
+            m.gives(0, 3, -1, 5);
+            m.addFunction(3, 0, false);
+            int term = m.call(0, -1, -1, -1);
+            for (int i = 1; i < 57; i++) {
+                term = m.sum(term, m.call(0, -1, -1, -1));
+            }
+            m.setBody(1, m.sum(term, m.claim(m.call(0, -1, -1, -1), m.number(0), most, m.number(0))));
+            due("facts", m.facts(1, 0), 58);
+            due("the last call's result is at most " + most, m.isProved(1, 0), most == 5);
+            if (most == 5) {
+                due("by the last fact", m.neededAt(1, 0, 0), 57);
+            }
         }
     }
 
@@ -973,6 +1210,7 @@ public final class ParagraphBoundaryTest extends Bench {
         m.setBody(1, m.sum(m.call(0, m.number(-1), -1, -1), m.number(0)));
         due("a call in a body without one", m.allNeeds(0), 0);
         m.setBody(1, m.number(0));
+        due("no such call any more", m.allNeeds(0), 1);
         m.setBody(0, m.name(9));
         due("with an error", m.allNeeds(0), 0);
         due("with an error", m.allGives(0), 0);
@@ -1141,6 +1379,23 @@ public final class ParagraphBoundaryTest extends Bench {
             m.setBody(0, m.number(0));
             due("at most " + most, m.run(0, most, 0, 0), 'v');
             due("one more", m.run(0, most, -1, 0), 'p');
+        }
+    }
+
+    /** Terms, Running: "what it gives is checked in the end": with the parameters and the result of the call that ends. */
+    static void paragraphRunningEndsOfEachCall() {
+        for (int inner = 4; inner <= 5; inner++) {
+            for (int outer = 6; outer <= 7; outer++) {
+                RefinementMint m = withFunction(2, 0, false);
+                m.addFunction(2, 0, false);
+                m.gives(0, 3, 1, inner);
+                m.gives(1, 3, 1, outer);
+                m.setBody(0, m.plus(m.name(1), 5));
+                m.setBody(1, m.sum(m.call(0, m.number(50), m.plus(m.name(1), 2), -1), m.number(0)));
+                boolean isHeld = inner == 5 && outer == 7;
+                due("5 more in the call, 7 around it", m.run(1, -50, 9, 0), isHeld ? 'v' : 'e');
+                due("checks", m.checks(), inner == 5 ? 2 : 1);
+            }
         }
     }
 

@@ -1,4 +1,6 @@
 import java.util.Arrays;
+import java.util.List;
+import java.util.function.Function;
 
 /**
  * Each sentence of "Promise 1" to "Promise 47" that names a boundary: the last value that is allowed and the first one
@@ -8,7 +10,7 @@ import java.util.Arrays;
  */
 public final class PromiseBoundaryTest extends Bench {
     public static void main(String[] args) {
-        runAll(PromiseBoundaryTest.class, 126);
+        runAll(PromiseBoundaryTest.class, 130);
     }
 
     /** Promise 1: "Creates a language without functions, terms and patterns." */
@@ -1024,6 +1026,34 @@ public final class PromiseBoundaryTest extends Bench {
         due("none", m.conditions(0), 0);
     }
 
+    /** Promise 25: as many conditions as 40 ways have: the first and the last one, and none behind it. */
+    static void promise25AsManyAsThereCanBe() {
+        RefinementMint m = withFunction(1, 0, false);
+        m.addFunction(1, 0, false);
+        for (int i = 0; i < 4; i++) {
+            m.needs(0, 0, -1, 5 + i);
+            m.gives(1, 3, -1, i);
+        }
+        int calls = m.call(0, m.number(5), -1, -1);
+        for (int i = 1; i < 24; i++) {
+            calls = m.sum(calls, m.call(0, m.number(i == 23 ? 8 : 5), -1, -1));
+        }
+        m.setBody(1, m.sum(m.sum(row(m, 5), row(m, 8)), calls));
+        int all = 40 * (24 * 4 + 4);
+        due("all", m.conditions(1), all);
+        due("the first one", m.kindOf(1, 0), 'p');
+        due("proved", m.isProved(1, 0), true);
+        due("of the last call", m.kindOf(1, all - 5), 'p');
+        due("8 is at most 8", m.isProved(1, all - 5), true);
+        due("8 is not at most 7", m.isProved(1, all - 6), false);
+        due("the last one", m.kindOf(1, all - 1), 'e');
+        due("not proved", m.isProved(1, all - 1), false);
+        fails("none behind it", NONE, () -> m.kindOf(1, all));
+        due("of all functions", m.allConditions(), all);
+        // on three ways numbers are left: those below 4, from 4 to 6, and from 7 on
+        dueReal("proved share", m.provedShare(), (float) (all - 3 * (3 + 4)) / (float) all);
+    }
+
     private interface OfCondition {
         Object ask(RefinementMint m, int function, int index);
     }
@@ -1197,6 +1227,42 @@ public final class PromiseBoundaryTest extends Bench {
                 due("real", m.isReal(0, 0), true);
             }
         }
+    }
+
+    /** Promise 33: "these numbers, which may be .. greater than 99 here": a list of as many zeros, up to 600. */
+    static void promise33LongLists() {
+        for (int far : of(99, 100, 599, 600)) {
+            RefinementMint m = withFunction(2, 2, false);
+            m.setBody(0, m.claim(m.name(1), great(m, far), 0, m.number(0)));
+            if (far < 600) {
+                due("example", m.example(0, 0, 1), far + 1);
+                due("real", m.isReal(0, 0), true);
+                m.setBody(0, m.match(m.name(1), m.number(0), 3, 4, m.claim(m.name(4), great(m, far - 1), 0, m.name(3))));
+                due("example of its rest", m.example(0, 0, 1), far + 1);
+                due("real", m.isReal(0, 0), true);
+            } else {
+                fails("no example", NONE, () -> m.isReal(0, 0));
+            }
+        }
+    }
+
+    /** Promises 32 and 33: a proved condition of a function without parameters has no example, one that is not proved has. */
+    static void promise33WithoutParameters() {
+        for (int most = 0; most <= 1; most++) {
+            RefinementMint m = withFunction(0, 0, false);
+            m.setBody(0, m.claim(m.number(1), m.number(0), most, m.number(0)));
+            due("proved", m.isProved(0, 0), most == 1);
+            if (most == 1) {
+                fails("no example", NONE, () -> m.isReal(0, 0));
+            } else {
+                due("ends by the claim", m.isReal(0, 0), true);
+            }
+            fails("no parameter", NONE, () -> m.example(0, 0, 0));
+        }
+        RefinementMint n = withFunction(0, 0, false);
+        n.setBody(0, n.call(0, -1, -1, -1));
+        due("an 'm'", n.kindOf(0, 0), 'm');
+        fails("has none without a metric", NONE, () -> n.isReal(0, 0));
     }
 
     /** Promise 33: "whether the function can be run", and ends "by a check of the same kind". */
@@ -1395,6 +1461,15 @@ public final class PromiseBoundaryTest extends Bench {
         m.setBody(5, m.number(8));
         due("all have bodies", run.run(m, 0, 0, 0, 0), 'v');
         due("value", m.result(), 8);
+        fails("none comes to the first one, which is asked", STATE, () -> {
+            m.setBody(0, m.name(0));
+            return run.run(m, 0, 0, 0, 0);
+        });
+        due("nor to it from the second one", run.run(m, 1, 0, 0, 0), 'v');
+        m.setBody(5, m.choice('<', m.number(0), m.number(1), m.number(8), m.call(0, -1, -1, -1)));
+        fails("the second one comes to the first one", STATE, () -> run.run(m, 1, 0, 0, 0));
+        m.setBody(0, m.call(1, -1, -1, -1));
+        due("all have bodies", run.run(m, 0, 0, 0, 0), 'v');
         m.setBody(4, m.choice('<', m.number(0), m.number(1), m.number(1), m.call(3, -1, -1, -1)));
         m.setBody(5, m.name(0));
         due("does not come to the sixth any more", run.run(m, 0, 0, 0, 0), 'v');
@@ -1574,6 +1649,57 @@ public final class PromiseBoundaryTest extends Bench {
         dueReal("one of two with a fact", m.meanNeeded(), 0.5);
         m.gives(0, 3, -1, 2);
         dueReal("one of three, as a double", m.meanNeeded(), 1.0 / 3.0);
+        m.addFunction(1, 0, false);
+        m.gives(1, 3, -1, 0);
+        m.gives(1, 3, -1, 1);
+        m.setBody(1, m.choice('<', m.name(0), m.number(0), m.number(0), m.number(1)));
+        m.addFunction(1, 0, false);
+        m.needs(2, -1, 0, 0);
+        m.gives(2, -1, 0, 0);
+        m.setBody(2, m.name(0));
+        dueReal("two of seven, one of them behind all", m.meanNeeded(), 2.0 / 7.0);
+        m.setBody(1, m.name(9));
+        dueReal("none of a function with an error between them", m.meanNeeded(), 2.0 / 4.0);
+        m.findGives(0);
+        m.pattern(1, 0, 50);
+        m.pattern(0, 1, 0);
+        due("one is found", m.allGives(0), 1);
+        dueReal("none of those that are found", m.meanNeeded(), 1);
+    }
+
+    private static final List<Act> CHANGES = List.of(
+            m -> m.needs(SUMS, -1, 0, -1), m -> m.gives(SUMS, 3, -1, 9), m -> m.findNeeds(SUMS), m -> m.findGives(SUMS),
+            m -> m.pattern(1, 0, 50), m -> m.pattern(2, 0, 99), m -> m.metric(SUMS, 0, -9, -1, 0), m -> m.setLazy(SUMS, true),
+            m -> m.setBody(SUMS, looseTwo), m -> m.setBody(JOIN, looseFour), m -> m.gives(JOIN, 3, -1, 0));
+
+    private static final List<Function<RefinementMint, Object>> QUESTIONS = List.of(
+            m -> m.error(JOIN), m -> m.ways(SUMS), m -> m.conditions(SUMS), m -> m.kindOf(SUMS, 1), m -> m.termOf(SUMS, 1),
+            m -> m.isProved(SUMS, 1), m -> m.facts(SUMS, 1), m -> m.needed(SUMS, 0), m -> m.neededAt(SUMS, 0, 0),
+            m -> m.neededAt(SUMS, 1, 0), m -> m.example(SUMS, 1, 0), m -> m.isReal(SUMS, 1), m -> m.allNeeds(SUMS),
+            m -> m.doesNeed(SUMS, -1, 0, 0), m -> m.allGives(JOIN), m -> m.doesGive(JOIN, 1, 3, 0), m -> m.isInRing(SUMS),
+            m -> m.run(SUMS, 0, 0, 0), m -> m.run(JOIN, 4, 1, 0), m -> m.runFew(SUMS, 4, 1, 0), m -> m.runFew(JOIN, 4, 1, 0),
+            m -> m.allConditions(), m -> m.provedShare(), m -> m.meanNeeded(), m -> m.isSound());
+
+    /** Promises 22 to 47: each call answers what stands behind the last change, also as the first call behind it. */
+    static void promise22To47FirstBehindAChange() {
+        for (int i = 0; i < CHANGES.size(); i++) {
+            for (int j = 0; j < QUESTIONS.size(); j++) {
+                RefinementMint first = rich();
+                first.isSound();
+                CHANGES.get(i).act(first);
+                RefinementMint later = rich();
+                CHANGES.get(i).act(later);
+                later.allConditions();
+                later.isSound();
+                String got = answered(first, QUESTIONS.get(j));
+                String want = answered(later, QUESTIONS.get(j));
+                due("question " + j + " behind change " + i + ":" + got + " for" + want, got.equals(want), true);
+            }
+        }
+    }
+
+    private static String answered(RefinementMint m, Function<RefinementMint, Object> question) {
+        return told(() -> question.apply(m)) + told(m::checks) + told(m::result);
     }
 
     /** Promise 47: "Checks whether each condition ..": of none at all, and of all kinds. */
