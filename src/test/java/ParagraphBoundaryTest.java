@@ -4,7 +4,7 @@
  */
 public final class ParagraphBoundaryTest extends Bench {
     public static void main(String[] args) {
-        runAll(ParagraphBoundaryTest.class, 76);
+        runAll(ParagraphBoundaryTest.class, 77);
     }
 
     /** What it is: "An object is used for at most 512 calls": the 512th one answers as it has to. */
@@ -996,6 +996,51 @@ public final class ParagraphBoundaryTest extends Bench {
         }
     }
 
+    /** Terms, Ways: "Each way has values": a term of each kind between two others changes nothing of theirs. */
+    static void paragraphWaysValuesBesideOthers() {
+        for (int kind = 0; kind <= 10; kind++) {
+            for (int most = 6; most <= 7; most++) {
+                RefinementMint m = withFunction(3, kind < 8 ? 0 : 2, false);
+                m.addFunction(3, 4, false);
+                m.needs(0, 0, 2, most);
+                m.needs(1, 0, 1, 7);
+                m.setBody(1, m.sum(m.number(5), m.call(0, m.name(0), ofKind(m, kind), m.name(1))));
+                due("no error", m.error(1), '-');
+                int last = m.conditions(1) - 1;
+                due("the need", m.kindOf(1, last), 'p');
+                due("beside kind " + kind + ", at most " + most, m.isProved(1, last), most == 7);
+            }
+        }
+    }
+
+    /** A term of each kind: up to 7 numbers, and then lists. */
+    private static int ofKind(RefinementMint m, int kind) {
+        switch (kind) {
+            case 0:
+                return m.number(3);
+            case 1:
+                return m.name(1);
+            case 2:
+                return m.plus(m.name(0), 9);
+            case 3:
+                return m.sum(m.name(0), m.number(1));
+            case 4:
+                return m.let(0, m.name(1), m.name(0));
+            case 5:
+                return m.choice('<', m.name(1), m.number(50), m.name(1), m.number(1));
+            case 6:
+                return m.match(m.name(2), m.name(0), 0, 1, m.name(0));
+            case 7:
+                return m.claim(m.empty(), m.number(9), 0, m.name(0));
+            case 8:
+                return m.empty();
+            case 9:
+                return m.ahead(m.name(1), m.ahead(m.name(1), m.name(2)));
+            default:
+                return m.let(0, m.ahead(m.number(1), m.empty()), m.match(m.name(0), m.name(2), 0, 1, m.name(1)));
+        }
+    }
+
     /** Terms, Ways: "results of calls" and "sums of two terms" are things: as many as a body can have. */
     static void paragraphWaysManyThings() {
         for (int most = 4; most <= 5; most++) {
@@ -1003,15 +1048,18 @@ public final class ParagraphBoundaryTest extends Bench {
             m.gives(0, 3, -1, 5);
             m.addFunction(3, 0, false);
             int term = m.call(0, -1, -1, -1);
-            for (int i = 1; i < 57; i++) {
+            for (int i = 1; i < 56; i++) {
                 term = m.sum(term, m.call(0, -1, -1, -1));
             }
-            m.setBody(1, m.sum(term, m.claim(m.call(0, -1, -1, -1), m.number(0), most, m.number(0))));
-            due("facts", m.facts(1, 0), 58);
-            due("the last call's result is at most " + most, m.isProved(1, 0), most == 5);
+            int others = m.claim(m.call(0, -1, -1, -1), m.call(0, -1, -1, -1), 0, m.number(0));
+            m.setBody(1, m.sum(term, m.claim(m.call(0, -1, -1, -1), m.number(0), most, others)));
+            due("facts", m.facts(1, 0), 57);
+            due("a late call's result is at most " + most, m.isProved(1, 0), most == 5);
             if (most == 5) {
-                due("by the last fact", m.neededAt(1, 0, 0), 57);
+                due("by the last fact", m.neededAt(1, 0, 0), 56);
             }
+            due("facts", m.facts(1, 1), 60);
+            due("the last two are two things", m.isProved(1, 1), false);
         }
     }
 
