@@ -4,7 +4,7 @@
  */
 public final class ParagraphBoundaryTest extends Bench {
     public static void main(String[] args) {
-        runAll(ParagraphBoundaryTest.class, 77);
+        runAll(ParagraphBoundaryTest.class, 80);
     }
 
     /** What it is: "An object is used for at most 512 calls": the 512th one answers as it has to. */
@@ -619,6 +619,100 @@ public final class ParagraphBoundaryTest extends Bench {
         }
     }
 
+    /** Terms, Ways: "A way goes through a body in the order of its parts": each kind of term with a claim in each part. */
+    static void paragraphWaysOrderOfParts() {
+        for (int kind = 0; kind < KINDS_OF_PARTS.length(); kind++) {
+            char sign = KINDS_OF_PARTS.charAt(kind);
+            RefinementMint m = withFunction(3, 0, false);
+            m.addFunction(0, 0, sign == 'h');
+            m.needs(0, 0, 1, 5);
+            int[] part = new int[partsOf(sign)];
+            for (int i = 0; i < part.length; i++) {
+                part[i] = m.claim(m.number(0), m.number(i), 0, simple(m, sign, i, false));
+            }
+            int root = around(m, sign, part);
+            due(sign + ": no error", m.setBody(1, root), '-');
+            int at = 0;
+            for (int i = 0; i < part.length; i++) {
+                if (sign == 'a' && i == 2) {
+                    due("a claim behind its first two parts", m.termOf(1, at), root);
+                    at++;
+                }
+                due(sign + ": part " + i, m.termOf(1, at), part[i]);
+                at++;
+            }
+            if (sign == 'c') {
+                due("what a call needs, behind its parts", m.kindOf(1, at), 'p');
+                due("with the facts of all parts", m.facts(1, at), 3);
+                at++;
+            }
+            due(sign + ": no more", m.conditions(1), at);
+        }
+    }
+
+    /** Terms, Running: "then the body is run part by part": a run ends in a part behind those ahead of it. */
+    static void paragraphRunningOrderOfParts() {
+        for (int kind = 0; kind < KINDS_OF_PARTS.length(); kind++) {
+            char sign = KINDS_OF_PARTS.charAt(kind);
+            for (int last = 0; last < partsOf(sign); last++) {
+                RefinementMint m = withFunction(3, 0, false);
+                m.addFunction(0, 0, sign == 'h');
+                m.needs(0, 0, 1, 5);
+                m.setBody(0, m.number(0));
+                int[] part = new int[partsOf(sign)];
+                boolean isLater = last == part.length - 1;
+                for (int i = 0; i < part.length; i++) {
+                    part[i] = m.claim(m.number(1), m.number(0), i < last ? 1 : 0, simple(m, sign, i, isLater));
+                }
+                due(sign + ": no error", m.setBody(1, around(m, sign, part)), '-');
+                due(sign + ": ends in part " + last, m.run(1, 0, 0, 0), 'a');
+                // of a choice and a match, the last part comes in place of the one ahead of it
+                int ahead = isLater && (sign == '?' || sign == 'm') ? last - 1 : last;
+                int own = sign == 'a' && last == 2 ? 1 : 0;
+                int more = sign == 'm' && last == 2 ? 2 : 0;
+                due(sign + ": checks up to part " + last, m.checks(), ahead + own + 1);
+                due(sign + ": steps up to part " + last, m.steps(), 1 + 4 * ahead + more + 3);
+            }
+        }
+    }
+
+    /** A sum, a let, a choice, a call, a list with a number ahead, a match and a claim. */
+    private static final String KINDS_OF_PARTS = "+l?chma";
+
+    private static int partsOf(char sign) {
+        return sign == '?' ? 4 : sign == 'c' || sign == 'm' || sign == 'a' ? 3 : 2;
+    }
+
+    /** What a part can be; isLater lets a choice and a match go on to their last part. */
+    private static int simple(RefinementMint m, char sign, int part, boolean isLater) {
+        if (sign == 'm' && part == 0 && isLater) {
+            return m.ahead(m.number(7), m.empty());
+        }
+        if (sign == 'm' && part == 0 || sign == 'h' && part == 1) {
+            return m.empty();
+        }
+        return m.number(sign == '?' && part == 1 && isLater ? 1 : 0);
+    }
+
+    private static int around(RefinementMint m, char sign, int[] part) {
+        switch (sign) {
+            case '+':
+                return m.sum(part[0], part[1]);
+            case 'l':
+                return m.let(3, part[0], part[1]);
+            case '?':
+                return m.choice('=', part[0], part[1], part[2], part[3]);
+            case 'c':
+                return m.call(0, part[0], part[1], part[2]);
+            case 'h':
+                return m.ahead(part[0], part[1]);
+            case 'm':
+                return m.match(part[0], part[1], 3, 4, part[2]);
+            default:
+                return m.claim(part[0], part[1], 0, part[2]);
+        }
+    }
+
     /** Terms, Ways: how many facts come at the beginning: a list "is not less than 0", "then what the function needs". */
     static void paragraphWaysFactsAtTheBeginning() {
         for (int lists = 0; lists < 8; lists++) {
@@ -1160,6 +1254,26 @@ public final class ParagraphBoundaryTest extends Bench {
         due("y < y + 1", m.isProved(0, 0), true);
         m.metric(1, 0, 1, -1, 0);
         due("y + 1 < y + 1", m.isProved(0, 0), false);
+    }
+
+    /** Terms, Rings and metrics: "and the second places do so": the one for the called function is its own. */
+    static void paragraphRingsSecondPlacesOfBoth() {
+        RefinementMint m = withFunction(2, 0, false);
+        m.addFunction(2, 0, false);
+        m.needs(0, -1, 1, 0);
+        m.setBody(0, m.call(1, m.name(0), m.name(1), -1));
+        m.setBody(1, m.call(0, m.name(0), m.name(1), -1));
+        m.metric(0, 0, 0, 1, 1);
+        for (int plus = -1; plus <= 1; plus++) {
+            m.metric(1, 0, 0, 1, plus);
+            due("0 <= y + " + plus + " < y + 1", m.isProved(0, 0), plus == 0);
+        }
+        m.metric(1, 0, 0, 0, 0);
+        due("the first parameter is not the second one", m.isProved(0, 0), false);
+        m.needs(0, 0, 1, 0);
+        due("x < y + 1, but x may be below 0", m.isProved(0, 0), false);
+        m.needs(0, -1, 0, 0);
+        due("0 <= x < y + 1", m.isProved(0, 0), true);
     }
 
     /** Terms, Rings and metrics: "If one has no metric, or they have unlike numbers of places, it is not proved." */
