@@ -761,94 +761,42 @@ public final class RefinementMint {
         }
     }
 
-    /** What is known of the differences of things: for each two, the most that one is above the other. */
-    private static final class Bounds {
+    /**
+     * The facts of a way in their order, and what follows from them for the difference of each two things. A value of a
+     * way is one number: its thing, and what is added to it.
+     */
+    private static final class Facts {
+        /** Not even 39 calls with 48 atoms each, and 79 with 8 ahead of them, come to so many. */
+        static final int ROOM = 3000;
+        /** A choice has four parts, so that 120 terms leave room for 29 choices on a way. */
+        static final int MOST_UNLIKE = 31;
+        static final int THING_SHIFT = 16;
+        static final int PLUS_MASK = 65535;
+        static final int PLUS_ZERO = 32768;
+        /** The value of nothing. */
+        static final int ZERO = PLUS_ZERO;
         static final int SHIFT = 7;
         static final int WIDTH = 1 << SHIFT;
         /** Stands for no bound; far above all sums of bounds. */
         static final int FAR = 1 << 28;
-
-        final int[] most = new int[WIDTH * WIDTH];
-        int things;
-        boolean isBroken;
-
-        void clear(int count) {
-            things = 0;
-            isBroken = false;
-            grow(count);
-        }
-
-        void grow(int count) {
-            for (int thing = things; thing < count && thing < WIDTH; thing++) {
-                for (int other = 0; other < thing; other++) {
-                    most[(thing << SHIFT) + other] = FAR;
-                    most[(other << SHIFT) + thing] = FAR;
-                }
-                most[(thing << SHIFT) + thing] = 0;
-                things = thing + 1;
-            }
-        }
-
-        void copy(Bounds other) {
-            things = other.things;
-            isBroken = other.isBroken;
-            for (int row = 0; row < things && row < WIDTH; row++) {
-                System.arraycopy(other.most, row << SHIFT, most, row << SHIFT, things < WIDTH ? things : WIDTH);
-            }
-        }
-
-        int at(int first, int second) {
-            return first >= 0 && first < WIDTH && second >= 0 && second < WIDTH ? most[(first << SHIFT) + second] : FAR;
-        }
-
-        /** Learns that the first thing less the second one is at most a number, and all that follows. */
-        void add(int first, int second, int bound) {
-            int count = things < WIDTH ? things : WIDTH;
-            if (first < 0 || first >= count || second < 0 || second >= count || isBroken) {
-                return;
-            }
-            if (bound >= most[(first << SHIFT) + second]) {
-                return;
-            }
-            if (most[(second << SHIFT) + first] + bound < 0) {
-                isBroken = true;
-                return;
-            }
-            for (int i = 0; i < count; i++) {
-                int ahead = most[(i << SHIFT) + first];
-                if (ahead < FAR) {
-                    for (int j = 0; j < count; j++) {
-                        int behind = most[(second << SHIFT) + j];
-                        if (behind < FAR && ahead + bound + behind < most[(i << SHIFT) + j]) {
-                            most[(i << SHIFT) + j] = ahead + bound + behind;
-                        }
-                    }
-                }
-            }
-        }
-    }
-
-    /** The facts of a way in their order. A value of a way is one number: its thing, and what is added to it. */
-    private static final class Facts {
-        /** Not even 39 calls with 48 atoms each, and 79 with 8 ahead of them, come to so many. */
-        static final int ROOM = 3000;
-        static final int THING_SHIFT = 16;
-        static final int PLUS_MASK = 65535;
-        static final int PLUS_ZERO = 32768;
 
         final int[] first = new int[ROOM];
         final int[] second = new int[ROOM];
         final int[] most = new int[ROOM];
         /** Whether a fact is that the difference is not the number, and not that it is at most the number. */
         final boolean[] isUnlike = new boolean[ROOM];
-        final Bounds bounds = new Bounds();
+        /** The facts that a difference is not a number. */
+        final int[] unlike = new int[MOST_UNLIKE];
+        /** For each two things the most that the first one is above the second one, by all other facts. */
+        final int[] above = new int[WIDTH * WIDTH];
         int size;
         int things;
         int learned;
         int unlikes;
-
-        /** The value of nothing. */
-        static final int ZERO = PLUS_ZERO;
+        /** How many things have their places in the bounds. */
+        int placed;
+        /** Whether the bounds leave no numbers. */
+        boolean isBroken;
 
         static int valueOf(int thing) {
             return (thing << THING_SHIFT) + PLUS_ZERO;
@@ -858,12 +806,13 @@ public final class RefinementMint {
             size = 0;
             learned = 0;
             unlikes = 0;
+            placed = 0;
+            isBroken = false;
             things = count;
-            bounds.clear(count);
         }
 
         int newThing() {
-            if (things < Bounds.WIDTH) {
+            if (things < WIDTH) {
                 things++;
             }
             return (things - 1 << THING_SHIFT) + PLUS_ZERO;
@@ -892,16 +841,67 @@ public final class RefinementMint {
             return fact >= 0 && fact < ROOM ? most[fact] : 0;
         }
 
+        boolean isUnlikeAt(int fact) {
+            return fact >= 0 && fact < ROOM && isUnlike[fact];
+        }
+
+        int unlikeAt(int index) {
+            return index >= 0 && index < MOST_UNLIKE ? unlike[index] : 0;
+        }
+
+        int aboveAt(int thing, int other) {
+            boolean isThere = thing >= 0 && thing < WIDTH && other >= 0 && other < WIDTH;
+            return isThere ? above[(thing << SHIFT) + other] : FAR;
+        }
+
         /** Brings the bounds up to all facts; apart from appending, so that a condition can come between. */
         void learn() {
-            bounds.grow(things);
+            placeThings();
             while (learned >= 0 && learned < size && learned < ROOM) {
-                if (isUnlike[learned]) {
+                if (!isUnlike[learned]) {
+                    bind(first[learned], second[learned], most[learned]);
+                } else if (unlikes >= 0 && unlikes < MOST_UNLIKE) {
+                    unlike[unlikes] = learned;
                     unlikes++;
-                } else {
-                    bounds.add(first[learned], second[learned], most[learned]);
                 }
                 learned++;
+            }
+        }
+
+        private void placeThings() {
+            for (int thing = placed; thing >= 0 && thing < things && thing < WIDTH; thing++) {
+                for (int other = 0; other < thing; other++) {
+                    above[(thing << SHIFT) + other] = FAR;
+                    above[(other << SHIFT) + thing] = FAR;
+                }
+                above[(thing << SHIFT) + thing] = 0;
+                placed = thing + 1;
+            }
+        }
+
+        /** Learns that a thing less another one is at most a number, and all that follows. */
+        private void bind(int thing, int other, int bound) {
+            int count = placed < WIDTH ? placed : WIDTH;
+            if (thing < 0 || thing >= count || other < 0 || other >= count || isBroken) {
+                return;
+            }
+            if (bound >= above[(thing << SHIFT) + other]) {
+                return;
+            }
+            if (above[(other << SHIFT) + thing] + bound < 0) {
+                isBroken = true;
+                return;
+            }
+            for (int i = 0; i < count; i++) {
+                int ahead = above[(i << SHIFT) + thing];
+                if (ahead < FAR) {
+                    for (int j = 0; j < count; j++) {
+                        int behind = above[(other << SHIFT) + j];
+                        if (behind < FAR && ahead + bound + behind < above[(i << SHIFT) + j]) {
+                            above[(i << SHIFT) + j] = ahead + bound + behind;
+                        }
+                    }
+                }
             }
         }
     }
@@ -914,27 +914,23 @@ public final class RefinementMint {
         static final int MOST_CASES = 4;
         static final int MOST_EDGES = 3;
         static final int FARTHEST = 600;
-        static final int ALL_APART = -1;
-        static final int BROKEN = -2;
 
         final Facts facts;
-        final Bounds part = new Bounds();
-        final Bounds start = new Bounds();
-        final Bounds work = new Bounds();
+        final Search search = new Search();
         final int[] edges = new int[MOST_CASES];
         final int[] edgeFirst = new int[MOST_CASES * MOST_EDGES];
         final int[] edgeSecond = new int[MOST_CASES * MOST_EDGES];
         final int[] edgeMost = new int[MOST_CASES * MOST_EDGES];
-        /** The facts in play that a difference is not a number. */
-        final int[] apart = new int[MOST_TERMS];
-        final int[] picked = new int[MOST_TERMS];
-        final boolean[] isAbove = new boolean[MOST_TERMS];
+        /** The facts by which alone the condition is to be proved. */
+        final int[] kept = new int[Facts.ROOM];
+        /** The most that each thing is above one of them. */
+        final int[] high = new int[Facts.WIDTH];
         final int[] needed = new int[Facts.ROOM];
+        /** The numbers from which and to which the first parameters reach; in the end, the example. */
+        final int[] lowest = new int[MOST_PARAMETERS];
         final int[] chosen = new int[MOST_PARAMETERS];
-        final int[] lowest = new int[MOST_CASES];
-        final int[] highest = new int[MOST_CASES];
         int cases;
-        int aparts;
+        int keptCount;
         int neededCount;
         /** Whether the condition can not be told, so that it is neither proved nor has examples. */
         boolean isHopeless;
@@ -970,136 +966,68 @@ public final class RefinementMint {
 
         /** Whether the condition holds wherever all facts hold. */
         boolean holds() {
-            gatherApart();
-            return !isHopeless && followsFrom(facts.bounds);
-        }
-
-        private void gatherApart() {
-            aparts = 0;
-            if (facts.unlikes > 0) {
-                for (int i = 0; i < facts.size && i < Facts.ROOM; i++) {
-                    if (facts.isUnlike[i] && aparts < apart.length) {
-                        apart[aparts] = i;
-                        aparts++;
-                    }
-                }
+            if (isHopeless || facts.isBroken) {
+                return !isHopeless;
             }
-        }
-
-        private boolean followsFrom(Bounds from) {
-            for (int i = 0; i < cases && i < MOST_CASES && !from.isBroken; i++) {
+            for (int i = 0; i < cases && i < MOST_CASES; i++) {
                 int at = MOST_EDGES * i;
                 // a bound alone can not be if it makes a ring of bounds below 0
-                if (edges[i] == 1 && from.at(edgeSecond[at], edgeFirst[at]) + edgeMost[at] < 0) {
+                if (edges[i] == 1 && facts.aboveAt(edgeSecond[at], edgeFirst[at]) + edgeMost[at] < 0) {
                     continue;
                 }
-                if (edges[i] == 1 && aparts == 0) {
+                if (edges[i] == 1 && facts.unlikes == 0) {
                     return false;
                 }
-                startCase(from, i, 0);
-                if (canDiffer()) {
-                    return false;
-                }
+                loadAll(0);
+                return !canFail(0);
             }
             return true;
         }
 
-        /** Lets start be bounds with a case, and with the chosen numbers of the first parameters. */
-        private void startCase(Bounds from, int which, int fixed) {
-            start.copy(from);
-            if (which < 0 || which >= MOST_CASES) {
-                return;
+        /** Lets the search know the cases, nothing and the parameters by their things, and all facts. */
+        private void loadAll(int parameters) {
+            search.clear();
+            for (int i = 0; i <= parameters && i <= MOST_PARAMETERS; i++) {
+                search.take(i);
             }
-            for (int i = 0; i < edges[which] && i < MOST_EDGES; i++) {
-                int at = MOST_EDGES * which + i;
-                start.add(edgeFirst[at], edgeSecond[at], edgeMost[at]);
+            takeCases();
+            for (int i = 0; i < facts.unlikes; i++) {
+                int fact = facts.unlikeAt(i);
+                search.tell(facts.firstAt(fact), facts.secondAt(fact), facts.mostAt(fact));
             }
-            for (int i = 0; i < fixed && i < MOST_PARAMETERS; i++) {
-                start.add(i + 1, 0, chosen[i]);
-                start.add(0, i + 1, -chosen[i]);
+            for (int i = 0; i < search.count; i++) {
+                for (int j = 0; j < search.count; j++) {
+                    search.setBase(i, j, facts.aboveAt(search.thingAt(i), search.thingAt(j)));
+                }
             }
         }
 
-        /** Whether there are numbers within the bounds of start for which all that is apart differs. */
-        private boolean canDiffer() {
-            if (start.isBroken || aparts == 0) {
-                return !start.isBroken;
-            }
-            int depth = 0;
-            for (int turn = 0; turn < MANY; turn++) {
-                work.copy(start);
-                for (int i = 0; i < depth && i < picked.length; i++) {
-                    pushApart(picked[i], isAbove[i]);
+        private void takeCases() {
+            for (int i = 0; i < cases && i < MOST_CASES; i++) {
+                for (int j = 0; j < edges[i] && j < MOST_EDGES; j++) {
+                    search.take(edgeFirst[MOST_EDGES * i + j]);
+                    search.take(edgeSecond[MOST_EDGES * i + j]);
                 }
-                int pick = settle();
-                if (pick == ALL_APART) {
-                    return true;
-                }
-                if (pick >= 0 && depth < picked.length) {
-                    picked[depth] = pick;
-                    isAbove[depth] = false;
-                    depth++;
-                } else {
-                    while (depth > 0 && isAbove[depth - 1]) {
-                        depth--;
-                    }
-                    if (depth == 0) {
-                        return false;
-                    }
-                    isAbove[depth - 1] = true;
-                }
-            }
-            return true;
-        }
-
-        private void pushApart(int fact, boolean isAboveIt) {
-            if (fact < 0 || fact >= Facts.ROOM) {
-                return;
-            }
-            if (isAboveIt) {
-                work.add(facts.second[fact], facts.first[fact], -facts.most[fact] - 1);
-            } else {
-                work.add(facts.first[fact], facts.second[fact], facts.most[fact] - 1);
             }
         }
 
-        /**
-         * Tightens the bounds of work by what is apart at their ends. Answers BROKEN if nothing is left, or a fact on
-         * whose two sides the search has to part, or ALL_APART: where a difference has no bound on one side, the things
-         * can always be moved so far from each other that they differ.
-         */
-        private int settle() {
-            for (int round = 0; round <= aparts; round++) {
-                boolean isChanged = false;
-                int pick = ALL_APART;
-                int least = Bounds.FAR;
-                for (int i = 0; i < aparts && i < apart.length && !work.isBroken; i++) {
-                    int fact = apart[i];
-                    int first = facts.firstAt(fact);
-                    int second = facts.secondAt(fact);
-                    int number = facts.mostAt(fact);
-                    int up = work.at(first, second);
-                    int down = work.at(second, first);
-                    if (up == number) {
-                        work.add(first, second, number - 1);
-                        isChanged = true;
-                    } else if (down == -number) {
-                        work.add(second, first, -number - 1);
-                        isChanged = true;
-                    } else if (up > number && down > -number && up < Bounds.FAR && down < Bounds.FAR
-                            && up + down < least) {
-                        least = up + down;
-                        pick = fact;
-                    }
+        /** Whether the facts that the search knows can hold in one of the cases, with the first parameters in reach. */
+        private boolean canFail(int fixed) {
+            boolean isMet = false;
+            for (int i = 0; i < cases && i < MOST_CASES && !isMet; i++) {
+                search.start();
+                for (int j = 0; j < edges[i] && j < MOST_EDGES; j++) {
+                    int at = MOST_EDGES * i + j;
+                    search.add(edgeFirst[at], edgeSecond[at], edgeMost[at]);
                 }
-                if (work.isBroken) {
-                    return BROKEN;
+                for (int j = 0; j < fixed && j < MOST_PARAMETERS; j++) {
+                    search.add(j + 1, 0, chosen[j]);
+                    search.add(0, j + 1, -lowest[j]);
                 }
-                if (!isChanged) {
-                    return pick;
-                }
+                search.reduce();
+                isMet = search.isOpen();
             }
-            return BROKEN;
+            return isMet;
         }
 
         /**
@@ -1120,7 +1048,7 @@ public final class RefinementMint {
                         few = middle;
                     }
                 }
-                if (neededCount < needed.length) {
+                if (neededCount >= 0 && neededCount < needed.length) {
                     needed[neededCount] = enough;
                     neededCount++;
                 }
@@ -1134,27 +1062,66 @@ public final class RefinementMint {
 
         /** Whether the condition holds by the needed facts so far and all from a place on. */
         private boolean holdsFrom(int from) {
-            part.clear(facts.things);
-            aparts = 0;
-            for (int i = 0; i < neededCount && i < needed.length; i++) {
-                include(needed[i]);
+            keptCount = 0;
+            for (int i = 0; i < neededCount && i < needed.length && keptCount < kept.length; i++) {
+                kept[keptCount] = needed[i];
+                keptCount++;
             }
-            for (int i = from; i < facts.size; i++) {
-                include(i);
+            for (int i = from; i < facts.size && keptCount < kept.length; i++) {
+                kept[keptCount] = i;
+                keptCount++;
             }
-            return followsFrom(part);
+            return !loadKept() || !canFail(0);
         }
 
-        private void include(int fact) {
-            if (fact < 0 || fact >= Facts.ROOM) {
-                return;
+        /** Lets the search know the cases and the facts that are kept; false if these alone leave no numbers. */
+        private boolean loadKept() {
+            search.clear();
+            takeCases();
+            for (int i = 0; i < keptCount && i < kept.length; i++) {
+                int fact = kept[i];
+                if (facts.isUnlikeAt(fact)) {
+                    search.tell(facts.firstAt(fact), facts.secondAt(fact), facts.mostAt(fact));
+                }
             }
-            if (!facts.isUnlike[fact]) {
-                part.add(facts.first[fact], facts.second[fact], facts.most[fact]);
-            } else if (aparts < apart.length) {
-                apart[aparts] = fact;
-                aparts++;
+            if (!raise(-1)) {
+                return false;
             }
+            for (int j = 0; j < search.count; j++) {
+                raise(search.thingAt(j));
+                for (int i = 0; i < search.count; i++) {
+                    int thing = search.thingAt(i);
+                    search.setBase(i, j, thing >= 0 && thing < high.length ? high[thing] : Facts.FAR);
+                }
+            }
+            return true;
+        }
+
+        /** Finds the most that each thing is above one of them, or above 0 for all; false if a ring is below 0. */
+        private boolean raise(int lowThing) {
+            for (int i = 0; i < high.length; i++) {
+                high[i] = lowThing < 0 || lowThing == i ? 0 : Facts.FAR;
+            }
+            boolean isChanged = true;
+            for (int round = 0; round <= facts.things && isChanged; round++) {
+                isChanged = false;
+                for (int i = 0; i < keptCount && i < kept.length; i++) {
+                    // facts are met in turn from both ends: most of what follows goes one way or the other
+                    int at = (round & 1) == 0 ? i : keptCount - 1 - i;
+                    int fact = at >= 0 && at < kept.length ? kept[at] : -1;
+                    if (fact < 0 || fact >= Facts.ROOM || facts.isUnlike[fact]) {
+                        continue;
+                    }
+                    int first = facts.first[fact];
+                    int second = facts.second[fact];
+                    boolean isThere = first >= 0 && first < high.length && second >= 0 && second < high.length;
+                    if (isThere && high[second] < Facts.FAR && high[second] + facts.most[fact] < high[first]) {
+                        high[first] = high[second] + facts.most[fact];
+                        isChanged = true;
+                    }
+                }
+            }
+            return !isChanged;
         }
 
         /** Finds numbers for the parameters, with which the facts can hold and the condition not. */
@@ -1162,43 +1129,49 @@ public final class RefinementMint {
             if (isHopeless) {
                 return false;
             }
-            gatherApart();
-            for (int parameter = 0; parameter < parameters && parameter < MOST_PARAMETERS; parameter++) {
-                findRanges(parameter);
-                boolean isMet = false;
-                for (int number = 0; number <= FARTHEST && !isMet; number++) {
-                    isMet = fits(parameter, number) || number > 0 && fits(parameter, -number);
-                }
-                if (!isMet) {
+            loadAll(parameters);
+            for (int i = 0; i < parameters && i < MOST_PARAMETERS; i++) {
+                int near = nearest(i);
+                if (near > FARTHEST) {
                     return false;
+                }
+                within(i, near, near);
+                if (near > 0 && !canFail(i + 1)) {
+                    within(i, -near, -near);
                 }
             }
             return true;
         }
 
-        /** The range of a parameter in each case, so that no number outside it is tried. */
-        private void findRanges(int parameter) {
-            for (int i = 0; i < cases && i < MOST_CASES; i++) {
-                startCase(facts.bounds, i, parameter);
-                lowest[i] = start.isBroken ? 1 : -start.at(0, parameter + 1);
-                highest[i] = start.isBroken ? 0 : start.at(parameter + 1, 0);
+        /** How far from 0 the number of a parameter is at least, if those ahead of it are chosen; or too far. */
+        private int nearest(int parameter) {
+            within(parameter, 0, 0);
+            if (canFail(parameter + 1)) {
+                return 0;
             }
-        }
-
-        private boolean fits(int parameter, int number) {
-            if (parameter < 0 || parameter >= MOST_PARAMETERS) {
-                return false;
+            within(parameter, -FARTHEST, FARTHEST);
+            if (!canFail(parameter + 1)) {
+                return FARTHEST + 1;
             }
-            chosen[parameter] = number;
-            for (int i = 0; i < cases && i < MOST_CASES; i++) {
-                if (number >= lowest[i] && number <= highest[i]) {
-                    startCase(facts.bounds, i, parameter + 1);
-                    if (canDiffer()) {
-                        return true;
-                    }
+            int no = 0;
+            int yes = FARTHEST;
+            for (int round = 0; round <= FARTHEST && yes - no > 1; round++) {
+                int next = Math.max(no + 1, Math.min(2 * no, (no + yes) / 2));
+                within(parameter, -next, next);
+                if (canFail(parameter + 1)) {
+                    yes = next;
+                } else {
+                    no = next;
                 }
             }
-            return false;
+            return yes;
+        }
+
+        private void within(int parameter, int low, int high) {
+            if (parameter >= 0 && parameter < MOST_PARAMETERS) {
+                lowest[parameter] = low;
+                chosen[parameter] = high;
+            }
         }
 
         int chosenAt(int parameter) {
@@ -1207,14 +1180,453 @@ public final class RefinementMint {
 
         /** Whether the example breaks its condition while all facts can hold. */
         boolean isBroken(int parameters) {
-            gatherApart();
-            for (int i = 0; i < cases; i++) {
-                startCase(facts.bounds, i, parameters);
-                if (canDiffer()) {
-                    return true;
+            loadAll(parameters);
+            return canFail(parameters);
+        }
+    }
+
+    /**
+     * Looks for whole numbers within bounds, some differences of which are not to be certain numbers. First all is left
+     * out that never keeps numbers from being found. In the rest, the core, it picks a side of one number after the
+     * other, below or above. Each bound keeps the picked sides from which it comes; so it is known which sides can not
+     * be together, and what else is picked between them is not tried again and again.
+     */
+    private static final class Search {
+        /** Both things of 31 facts, nothing, the parameters, and both ends of a case. */
+        static final int SIDE = 72;
+        static final int MOST_APART = Facts.MOST_UNLIKE;
+        static final int FAR = Facts.FAR;
+        /** No way has more than 29 facts that things are unlike; to pick their sides in each way takes fewer turns. */
+        static final int MOST_TURNS = 1 << 30;
+
+        /** The things in play; and for each thing its place among them, and one more. */
+        final int[] thing = new int[SIDE];
+        final int[] place = new int[Facts.WIDTH];
+        /** For each two of them the most that the first one is above the second one: by the facts, and in a case. */
+        final int[] base = new int[SIDE * SIDE];
+        final int[] open = new int[SIDE * SIDE];
+        /** What is apart, each by two places, and the number that their difference is not; and what is left of it. */
+        final int[] told = new int[3 * MOST_APART];
+        final int[] apart = new int[3 * MOST_APART];
+        /** Of how many that are left apart each one in play is a part; then its place in the core. */
+        final int[] core = new int[SIDE];
+        /** The side that is picked at each depth: twice the index of what is apart, and one more for above. */
+        final int[] picked = new int[MOST_APART + 1];
+        /** The bounds of the core at each depth, and the picked sides from which each comes, as powers of 2. */
+        int[] most = new int[64];
+        long[] why = new long[64];
+        int count;
+        int tolds;
+        int aparts;
+        int width;
+        int depth;
+        boolean isBroken;
+        /** The picked sides that can not be together, if the bounds are broken. */
+        long blame;
+
+        void clear() {
+            for (int i = 0; i < place.length; i++) {
+                place[i] = 0;
+            }
+            count = 0;
+            tolds = 0;
+        }
+
+        void take(int newThing) {
+            if (newThing >= 0 && newThing < place.length && place[newThing] == 0 && count >= 0 && count < SIDE) {
+                thing[count] = newThing;
+                count++;
+                place[newThing] = count;
+            }
+        }
+
+        int thingAt(int index) {
+            return index >= 0 && index < SIDE ? thing[index] : -1;
+        }
+
+        void tell(int first, int second, int number) {
+            take(first);
+            take(second);
+            if (tolds < 0 || tolds >= MOST_APART || first < 0 || first >= place.length
+                    || second < 0 || second >= place.length) {
+                return;
+            }
+            told[3 * tolds] = place[first] - 1;
+            told[3 * tolds + 1] = place[second] - 1;
+            told[3 * tolds + 2] = number;
+            tolds++;
+        }
+
+        void setBase(int first, int second, int bound) {
+            if (first >= 0 && first < SIDE && second >= 0 && second < SIDE) {
+                base[first * SIDE + second] = bound;
+            }
+        }
+
+        /** Begins a case with the facts alone. */
+        void start() {
+            isBroken = false;
+            for (int i = 0; i < count && i < SIDE; i++) {
+                System.arraycopy(base, i * SIDE, open, i * SIDE, SIDE);
+            }
+            System.arraycopy(told, 0, apart, 0, told.length);
+            aparts = tolds;
+        }
+
+        /** Adds to the case that a thing less another one is at most a number. */
+        void add(int first, int second, int bound) {
+            if (first >= 0 && first < place.length && second >= 0 && second < place.length) {
+                bind(place[first] - 1, place[second] - 1, bound);
+            }
+        }
+
+        private void bind(int first, int second, int bound) {
+            if (first < 0 || first >= SIDE || second < 0 || second >= SIDE || isBroken
+                    || bound >= open[first * SIDE + second]) {
+                return;
+            }
+            if (open[second * SIDE + first] + bound < 0) {
+                isBroken = true;
+                return;
+            }
+            for (int i = 0; i < count && i < SIDE; i++) {
+                int ahead = open[i * SIDE + first];
+                if (ahead < FAR) {
+                    for (int j = 0; j < count && j < SIDE; j++) {
+                        int behind = open[second * SIDE + j];
+                        if (behind < FAR && ahead + bound + behind < open[i * SIDE + j]) {
+                            open[i * SIDE + j] = ahead + bound + behind;
+                        }
+                    }
                 }
             }
-            return false;
+        }
+
+        /** Leaves out what never keeps numbers from being found, and makes the core of the rest. */
+        void reduce() {
+            trim();
+            if (isBroken) {
+                return;
+            }
+            join();
+            dropFree();
+            openCore();
+        }
+
+        /**
+         * Tightens bounds by what is apart at their ends, and keeps what is apart by a number between both bounds.
+         * Where a difference has no bound on one side, the things can always be moved so far from each other that they
+         * differ.
+         */
+        private void trim() {
+            boolean isChanged = true;
+            for (int round = 0; round <= MOST_APART && isChanged && !isBroken; round++) {
+                isChanged = false;
+                int left = 0;
+                for (int i = 0; i < aparts && i < MOST_APART; i++) {
+                    int first = apart[3 * i];
+                    int second = apart[3 * i + 1];
+                    int number = apart[3 * i + 2];
+                    int up = openAt(first, second);
+                    int down = openAt(second, first);
+                    boolean isNear = up < FAR && down < FAR;
+                    if (isNear && up == number) {
+                        bind(first, second, number - 1);
+                        isChanged = true;
+                    } else if (isNear && down == -number) {
+                        bind(second, first, -number - 1);
+                        isChanged = true;
+                    } else if (isNear && up > number && down > -number) {
+                        keep(left, first, second, number);
+                        left++;
+                    }
+                }
+                aparts = left;
+            }
+        }
+
+        private int openAt(int first, int second) {
+            boolean isThere = first >= 0 && first < SIDE && second >= 0 && second < SIDE;
+            return isThere ? open[first * SIDE + second] : FAR;
+        }
+
+        private void keep(int at, int first, int second, int number) {
+            if (at >= 0 && at < MOST_APART) {
+                apart[3 * at] = first;
+                apart[3 * at + 1] = second;
+                apart[3 * at + 2] = number;
+            }
+        }
+
+        /** Puts one thing in place of all that are the same but for a number, and keeps once what is apart then. */
+        private void join() {
+            int left = 0;
+            for (int i = 0; i < aparts && i < MOST_APART; i++) {
+                int first = sameAs(apart[3 * i]);
+                int second = sameAs(apart[3 * i + 1]);
+                int number = apart[3 * i + 2] - openAt(apart[3 * i], first) + openAt(apart[3 * i + 1], second);
+                boolean isTurned = first > second;
+                int one = isTurned ? second : first;
+                int other = isTurned ? first : second;
+                int apartBy = isTurned ? -number : number;
+                boolean isNew = true;
+                for (int j = 0; j < left; j++) {
+                    isNew = isNew && (apart[3 * j] != one || apart[3 * j + 1] != other || apart[3 * j + 2] != apartBy);
+                }
+                if (isNew) {
+                    keep(left, one, other, apartBy);
+                    left++;
+                }
+            }
+            aparts = left;
+        }
+
+        private int sameAs(int index) {
+            for (int i = 0; i < index && index < SIDE; i++) {
+                int up = open[index * SIDE + i];
+                if (up < FAR && open[i * SIDE + index] == -up) {
+                    return i;
+                }
+            }
+            return index;
+        }
+
+        /** Leaves out each thing that has more numbers, whatever the others are, than it has to be apart from. */
+        private void dropFree() {
+            for (int i = 0; i < SIDE; i++) {
+                core[i] = 0;
+            }
+            for (int i = 0; i < aparts && i < MOST_APART; i++) {
+                countSide(apart[3 * i]);
+                countSide(apart[3 * i + 1]);
+            }
+            boolean isChanged = true;
+            for (int round = 0; round <= SIDE && isChanged; round++) {
+                isChanged = false;
+                for (int i = 0; i < count && i < SIDE; i++) {
+                    if (core[i] > 0 && core[i] <= slackOf(i)) {
+                        drop(i);
+                        isChanged = true;
+                    }
+                }
+            }
+        }
+
+        private void countSide(int index) {
+            if (index >= 0 && index < SIDE) {
+                core[index]++;
+            }
+        }
+
+        private void drop(int index) {
+            int left = 0;
+            for (int i = 0; i < aparts && i < MOST_APART; i++) {
+                int first = apart[3 * i];
+                int second = apart[3 * i + 1];
+                boolean isGone = first == index || second == index;
+                if (first >= 0 && first < SIDE && second >= 0 && second < SIDE && isGone) {
+                    core[first]--;
+                    core[second]--;
+                } else if (!isGone) {
+                    apart[3 * left] = first;
+                    apart[3 * left + 1] = second;
+                    apart[3 * left + 2] = apart[3 * i + 2];
+                    left++;
+                }
+            }
+            aparts = left;
+        }
+
+        /** How far the numbers reach at least that a thing can be, whatever the others are. */
+        private int slackOf(int index) {
+            int least = FAR;
+            if (index < 0 || index >= SIDE) {
+                return 0;
+            }
+            for (int i = 0; i < count && i < SIDE; i++) {
+                int down = open[i * SIDE + index];
+                if (i == index || core[i] == 0 || down >= FAR || open[index * SIDE + i] >= FAR) {
+                    continue;
+                }
+                for (int j = 0; j < count && j < SIDE; j++) {
+                    int up = open[index * SIDE + j];
+                    boolean isNear = j != index && core[j] > 0 && up < FAR && open[j * SIDE + index] < FAR;
+                    if (isNear && down + up - open[i * SIDE + j] < least) {
+                        least = down + up - open[i * SIDE + j];
+                    }
+                }
+            }
+            return least;
+        }
+
+        private void openCore() {
+            width = 0;
+            for (int i = 0; i < count && i < SIDE; i++) {
+                width += core[i] > 0 ? 1 : 0;
+            }
+            int room = (aparts + 1) * width * width;
+            if (most.length < room || why.length < room) {
+                most = new int[2 * room];
+                why = new long[2 * room];
+            }
+            int row = 0;
+            for (int i = 0; i < count && i < SIDE; i++) {
+                int column = 0;
+                for (int j = 0; j < count && j < SIDE; j++) {
+                    int at = row * width + column;
+                    if (core[i] > 0 && core[j] > 0 && at >= 0 && at < most.length && at < why.length) {
+                        most[at] = open[i * SIDE + j];
+                        why[at] = 0;
+                        column++;
+                    }
+                }
+                row += core[i] > 0 ? 1 : 0;
+            }
+            int next = 0;
+            for (int i = 0; i < count && i < SIDE; i++) {
+                next += core[i] > 0 ? 1 : 0;
+                core[i] = next - 1;
+            }
+            for (int i = 0; i < aparts && i < MOST_APART; i++) {
+                apart[3 * i] = coreAt(apart[3 * i]);
+                apart[3 * i + 1] = coreAt(apart[3 * i + 1]);
+            }
+        }
+
+        private int coreAt(int index) {
+            return index >= 0 && index < SIDE ? core[index] : 0;
+        }
+
+        /** Learns that a thing of the core less another one is at most a number, because of picked sides. */
+        private void bindCore(int first, int second, int bound, long reason) {
+            int from = depth * width * width;
+            if (first < 0 || first >= width || second < 0 || second >= width || from < 0
+                    || from + width * width > most.length || from + width * width > why.length || isBroken
+                    || bound >= most[from + first * width + second]) {
+                return;
+            }
+            if (most[from + second * width + first] + bound < 0) {
+                isBroken = true;
+                blame = reason | why[from + second * width + first];
+                return;
+            }
+            for (int i = 0; i < width; i++) {
+                int row = from + i * width;
+                int ahead = most[row + first];
+                long cause = why[row + first] | reason;
+                for (int j = 0; j < width && ahead < FAR; j++) {
+                    int behind = most[from + second * width + j];
+                    if (behind < FAR && ahead + bound + behind < most[row + j]) {
+                        most[row + j] = ahead + bound + behind;
+                        why[row + j] = cause | why[from + second * width + j];
+                    }
+                }
+            }
+        }
+
+        /** Tightens bounds by what is apart at their ends; false, with the blame for it, if nothing is left. */
+        private boolean settle() {
+            int from = depth * width * width;
+            boolean isChanged = true;
+            for (int round = 0; round <= MOST_APART && isChanged && !isBroken; round++) {
+                isChanged = false;
+                for (int i = 0; i < aparts && i < MOST_APART && !isBroken; i++) {
+                    int first = apart[3 * i];
+                    int second = apart[3 * i + 1];
+                    int number = apart[3 * i + 2];
+                    int up = from + first * width + second;
+                    int down = from + second * width + first;
+                    int end = Math.min(most.length, why.length);
+                    if (up < 0 || up >= end || down < 0 || down >= end) {
+                        continue;
+                    }
+                    if (most[up] == number) {
+                        bindCore(first, second, number - 1, why[up]);
+                        isChanged = true;
+                    } else if (most[down] == -number) {
+                        bindCore(second, first, -number - 1, why[down]);
+                        isChanged = true;
+                    }
+                }
+            }
+            return !isBroken;
+        }
+
+        /** What is apart, can still be both below and above its number, and reaches least far; -1 if there is none. */
+        private int narrowest() {
+            int from = depth * width * width;
+            int least = FAR;
+            int pick = -1;
+            for (int i = 0; i < aparts && i < MOST_APART; i++) {
+                int number = apart[3 * i + 2];
+                int up = from + apart[3 * i] * width + apart[3 * i + 1];
+                int down = from + apart[3 * i + 1] * width + apart[3 * i];
+                if (up >= 0 && up < most.length && down >= 0 && down < most.length && most[up] > number
+                        && most[down] > -number && most[up] + most[down] < least) {
+                    least = most[up] + most[down];
+                    pick = i;
+                }
+            }
+            return pick;
+        }
+
+        /** Goes one deeper, with the bounds as they stand. */
+        private void deepen() {
+            int cells = width * width;
+            int from = depth * cells;
+            if (from >= 0 && from + 2 * cells <= most.length && from + 2 * cells <= why.length) {
+                System.arraycopy(most, from, most, from + cells, cells);
+                System.arraycopy(why, from, why, from + cells, cells);
+                depth++;
+            }
+        }
+
+        /** Takes a side of what is apart, because of picked sides. */
+        private void part(int side, long reason) {
+            int at = 3 * (side >> 1);
+            if (at < 0 || at + 2 >= apart.length) {
+                return;
+            }
+            if ((side & 1) == 0) {
+                bindCore(apart[at], apart[at + 1], apart[at + 2] - 1, reason);
+            } else {
+                bindCore(apart[at + 1], apart[at], -apart[at + 2] - 1, reason);
+            }
+        }
+
+        /**
+         * Whether there are numbers within the bounds of the core for which all differs that is apart. If the picked
+         * sides leave none, the last one to blame is given up with all that was picked behind it, and its other side
+         * holds, for the reason of those to blame ahead of it.
+         */
+        boolean isOpen() {
+            if (isBroken || aparts == 0) {
+                return !isBroken;
+            }
+            depth = 0;
+            for (int turn = 0; turn < MOST_TURNS; turn++) {
+                if (settle()) {
+                    int pick = narrowest();
+                    if (pick < 0 || depth < 0 || depth >= MOST_APART) {
+                        return true;
+                    }
+                    deepen();
+                    picked[depth] = 2 * pick;
+                    part(2 * pick, 1L << 2 * pick);
+                } else {
+                    while (depth > 0 && depth <= MOST_APART && (blame >> picked[depth] & 1) == 0) {
+                        depth--;
+                    }
+                    if (depth <= 0 || depth > MOST_APART) {
+                        return false;
+                    }
+                    int side = picked[depth];
+                    depth--;
+                    isBroken = false;
+                    part(side ^ 1, blame & ~(1L << side));
+                }
+            }
+            return true;
         }
     }
 
